@@ -1146,10 +1146,14 @@ public final class LatticeTunnel {
             for (int g = 0; g < gusts.size; g++) {
                 if (gusts.isBlowing(g, tunnel.time)) {
                     int at = g * Gusts.NUMBERS;
+                    int kind = gusts.numbers[at + Gusts.KIND];
                     int column = gusts.numbers[at + Gusts.COLUMN];
-                    for (int r = gusts.numbers[at + Gusts.ROW]; r <= gusts.numbers[at + Gusts.LAST_ROW]; r++) {
-                        gusts.numbers[at + Gusts.EFFECT] += blow(tunnel, gusts.numbers[at + Gusts.KIND], column, r);
+                    int lastRow = gusts.numbers[at + Gusts.LAST_ROW];
+                    int effect = 0;
+                    for (int r = gusts.numbers[at + Gusts.ROW]; r <= lastRow; r++) {
+                        effect += blow(tunnel, kind, column, r);
                     }
+                    gusts.numbers[at + Gusts.EFFECT] += effect;
                 }
             }
         }

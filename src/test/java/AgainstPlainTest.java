@@ -9,6 +9,7 @@ public final class AgainstPlainTest {
         "*013>013", "03>25;14>03;25>14|14", "*02>1", "*013>024", "01>01;*0>0", "*03>14;*14>25", "30>14", "0>0|0|0",
         "*015>015|015;*0135>0124", "*", ";", "0>", "0>0;", "0>0;;0>0", "6>6", "*0235>0134|1245;*024>135;*03>25|14",
         "*0124>0135", "0123>1234", "0>0;x", "01>02;", "01>01|02", "*012345>012345", "0145>0145|0134",
+        "013>125;125>013", "*013>125;*125>013", "*013>125|013;*125>013|125",
     };
 
     private static Random chance;
@@ -40,12 +41,16 @@ public final class AgainstPlainTest {
 
     /** Mostly within the range, sometimes just beyond it. */
     private static int pick(int least, int most) {
-        int r = chance.nextInt(40);
+        int r = chance.nextInt(60);
         if (r == 0) {
             return least - 1;
         }
         if (r == 1) {
             return most + 1;
+        }
+        if (r == 2) {
+            int[] far = {Integer.MIN_VALUE, Integer.MAX_VALUE, -1000, 1000, 32, 64};
+            return far[chance.nextInt(far.length)];
         }
         return least + chance.nextInt(most - least + 1);
     }

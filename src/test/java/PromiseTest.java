@@ -221,6 +221,10 @@ public final class PromiseTest {
             Check.due("2 cell", x.cell(c, 1), 0);
         }
         Check.due("2 greatest", x.build(32, 16), 512);
+        Check.due("2 all free", x.count(5), 0);
+        Check.due("2 nothing solid", x.block(0, 0, 0, 31, 15), 512);
+        x.build(32, 16);
+        Check.due("2 all free", x.count(5), 0);
         Check.due("2 last cell", x.cell(31, 15), 0);
         for (int[] wrong : new int[][] {{3, 2}, {33, 2}, {4, 1}, {4, 17}, {-4, 4}, {Integer.MAX_VALUE, 4}}) {
             Check.noArgument("2 wrong", () -> x.build(wrong[0], wrong[1]));
@@ -347,9 +351,30 @@ public final class PromiseTest {
         Check.noArgument("7 rows before state", () -> x.shift(5, 0, -9));
         Check.noIndex("7 body before argument", () -> x.shift(6, 9, 0));
         Check.noIndex("7 body", () -> x.shift(-1, 0, 0));
+        shiftAtTheEdges();
         isChange("7 shift", x, () -> x.shift(2, 0, -1));
         isChange("7 shift by nothing", x, () -> x.shift(2, 0, 0));
         unchanged("7 shift", x, () -> x.shift(2, 1, 0));
+    }
+
+    private static void shiftAtTheEdges() {
+        LatticeTunnel x = make(32, 16);
+        x.block(1, 3, 7, 4, 8);
+        x.shift(1, -3, -7);
+        Check.due("7 to the first column and row", x.cell(0, 0), -2);
+        Check.due("7 rest", x.cell(1, 1), -2);
+        x.put(0, 2, 0);
+        Check.noState("7 particles under a later row", () -> x.shift(1, 0, 1));
+        x.empty(0, 2, 0, 2);
+        x.put(1, 8, 0);
+        Check.noState("7 particles under the first row", () -> x.shift(1, 0, 8));
+        Check.due("7 eight rows", x.shift(1, 8, 7), 4);
+        Check.due("7 eight rows", x.shift(1, 8, -7), 4);
+        Check.due("7 eight rows down", x.shift(1, 8, 8), 4);
+        Check.due("7 first row left", x.count(5), 4);
+        x.shift(1, 6, 6);
+        Check.due("7 last cell", x.cell(31, 15), -2);
+        Check.due("7 cells", x.body(1, 3) * 100 + x.body(1, 5), 3014);
     }
 
     private static void promise8() {
@@ -573,8 +598,19 @@ public final class PromiseTest {
         y.run(2);
         y.drop(0);
         Check.due("14 account stays", y.particles(1), 8);
+        y.empty(0, 0, 5, 3);
+        y.run(1);
+        Check.due("14 blows no more", y.particles(4), 0);
         y.inlet(0, 3, 0, 1, 1);
         Check.due("14 new effect", y.gust(0, 7), 0);
+        LatticeTunnel z = make(6, 4);
+        for (int i = 0; i < 6; i++) {
+            z.fan(i, 0, 3, i, 10 + i, 1);
+        }
+        Check.due("14 of six", z.drop(2), 5);
+        Check.due("14 last of six", z.gust(4, 1) * 100 + z.gust(4, 5), 515);
+        Check.due("14 before", z.gust(1, 1), 1);
+        Check.due("14 last one of five", z.drop(4), 4);
     }
 
     // ---- rules of collision
@@ -733,6 +769,7 @@ public final class PromiseTest {
         bodies();
         collisions();
         gustsFirst();
+        greatest();
         LatticeTunnel x = make(6, 4);
         Check.due("20 run", x.run(1), 1);
         Check.due("20 run", x.run(40), 41);
@@ -899,6 +936,28 @@ public final class PromiseTest {
         Check.due("20 remainder 0", v.gust(0, 8), 1);
     }
 
+    private static void greatest() {
+        LatticeTunnel x = ring(32, 16);
+        x.fill(9, 0, 0, 31, 15);
+        for (int i = 0; i < 6; i++) {
+            x.drain(31, 15, 15, 10000, 1, 1);
+        }
+        x.run(1);
+        // Each cell gives its pair to two neighbours; at the walls one half comes back.
+        Check.due("20 all in the greatest tunnel", x.particles(4), 1024);
+        Check.due("20 walls", x.momentum(1, 3), 0);
+        LatticeTunnel y = make(32, 16);
+        y.put(31, 14, 1);
+        y.put(0, 15, 2);
+        y.put(0, 15, 4);
+        y.run(1);
+        // Straight up at an end is not beyond it.
+        Check.due("20 along the right end", y.cell(31, 13), 2);
+        Check.due("20 along the left end", y.cell(0, 14), 4);
+        Check.due("20 crossed", y.crossed(0) + y.crossed(31), 0);
+        Check.due("20 off the last row", y.cell(0, 15), 2);
+    }
+
     private static void promise21() {
         LatticeTunnel x = ring(6, 4);
         Check.holds("21 ring", x.reversible());
@@ -940,6 +999,15 @@ public final class PromiseTest {
         Check.holds("22 something moved", !picture(x).equals(start));
         Check.due("22 back", x.back(33), 0);
         Check.same("22 as before", picture(x), start);
+        LatticeTunnel turning = withBook(7, 5, "013>125;125>013;*0123>0123");
+        turning.set(0, 1);
+        turning.set(1, 1);
+        turning.fill(11, 0, 0, 6, 4);
+        turning.fill(38, 2, 2, 5, 3);
+        String before = picture(turning);
+        turning.run(9);
+        turning.back(9);
+        Check.same("22 rules that are not their own mirror", picture(turning), before);
         backOffBodyAndWall();
         backBeyondTheRecord();
         Check.noArgument("22 ticks", () -> x.back(0));
@@ -1146,6 +1214,12 @@ public final class PromiseTest {
         for (int what = 3; what <= 6; what++) {
             Check.due("28 corner", widest.body(0, what), what < 5 ? 31 : 15);
         }
+        LatticeTunnel corner = make(32, 16);
+        corner.solid(0, 0, 0);
+        for (int what = 3; what <= 6; what++) {
+            Check.due("28 first corner", corner.body(0, what), 0);
+            Check.due("28 no cells", corner.body(1, what), -1);
+        }
         Check.noIndex("28 body", () -> x.body(6, 0));
         Check.noIndex("28 body before what", () -> x.body(-1, 7));
         Check.noArgument("28 what", () -> x.body(0, 7));
@@ -1343,8 +1417,8 @@ public final class PromiseTest {
         // Round a ring of 5 columns: the same after 5 ticks, and after an even number after 10.
         LatticeTunnel odd = ring(5, 2);
         odd.put(0, 0, 0);
-        cycleIs("odd ring", odd, 60, 0, 10);
         cycleIs("odd ring", odd, 10, 0, 10);
+        cycleIs("odd ring", odd, 60, 0, 10);
         cycleIs("odd ring", odd, 9, -1, -1);
         // A particle leaves in the third tick.
         LatticeTunnel out = make(6, 2);
@@ -1374,6 +1448,9 @@ public final class PromiseTest {
         cycleIs("not begun", late, 60, -1, -1);
         late.run(1);
         cycleIs("begins at the end", late, 60, 58, 2);
+        late.fan(2, 0, 0, 10000, 60, 1);
+        late.drop(1);
+        cycleIs("dropped", late, 60, 58, 2);
         LatticeTunnel y = busy();
         isNoChange("36 cycle", y, () -> y.cycle(60, 0));
         Check.noArgument("36 ticks", () -> y.cycle(1, 0));
@@ -1394,6 +1471,9 @@ public final class PromiseTest {
         Check.due("37 later", x.settles(1, 2, 0, 40), 1);
         x.run(1);
         Check.due("37 now", x.settles(1, 2, 0, 0), 0);
+        run(x, 30);
+        Check.due("37 longest", x.settles(1, 32, 0, 40), 30);
+        Check.due("37 most tolerant", x.settles(1, 32, 1000, 40), 30);
         LatticeTunnel y = busy();
         isNoChange("37 settles", y, () -> y.settles(2, 4, 2, 40));
         Check.noArgument("37 ticks", () -> x.settles(1, 0, 0, 40));
@@ -1469,6 +1549,12 @@ public final class PromiseTest {
         z.drain(3, 1, 1, 1, 4, 1);
         Check.due("39 one later", z.bestStart(0, 2, 1), 1);
         isNoChange("39 bestStart", z, () -> z.bestStart(0, 2, 40));
+        // A period later the drain would spare the particle, but that is too late by one.
+        LatticeTunnel v = make(8, 6);
+        v.solid(2, 3, 1);
+        v.put(3, 2, 1);
+        v.drain(3, 2, 2, 0, 1, 1);
+        Check.due("39 less than the period", v.bestStart(0, 2, 1), 0);
         bestStartBeyondTheGreatest();
         Check.noIndex("39 gust", () -> z.bestStart(1, 2, 1));
         Check.noIndex("39 gust", () -> z.bestStart(-1, 2, 1));
@@ -1565,6 +1651,15 @@ public final class PromiseTest {
         unchanged("42 restore", x, () -> x.restore(0));
         Check.noIndex("42 slot", () -> x.restore(2));
         Check.noIndex("42 slot", () -> x.restore(-1));
+        LatticeTunnel z = rattle();
+        z.run(4);
+        z.save(0);
+        z.build(8, 2);
+        z.run(40);
+        z.run(40);
+        z.restore(0);
+        Check.due("42 record", z.recent(1, 0, 64), 8);
+        Check.due("42 record", z.recent(1, 0, 3), 4);
         LatticeTunnel y = new LatticeTunnel();
         y.save(0);
         y.run(5);
