@@ -661,7 +661,7 @@ public final class PromiseTest {
         faultIs("03>14|x", 6, 1, 0);
         faultIs("03>14|25|03", 8, 1, 0);
         faultIs("03>14>25", 5, 1, 0);
-        faultIs("03>14 ".trim() + "x", 5, 1, 0);
+        faultIs("03>14x", 5, 1, 0);
         faultIs(";", 0, 1, 0);
         faultIs("0>0;", 4, 1, 1);
         faultIs("0>0;;1>1", 4, 1, 1);
@@ -751,7 +751,7 @@ public final class PromiseTest {
         }
         Check.noArgument("19 state", () -> x.becomes(64, true));
         Check.noArgument("19 state", () -> x.becomes(-1, false));
-        // 013 has the number and the momentum of 014 less ... 0 and 3 cancel, so it is as 1 with 25.
+        // 0 and 3 cancel, and so do 2 and 5: 013 and 125 have three particles each and the momentum of 1.
         LatticeTunnel y = withBook(6, 4, "*013>125");
         Check.due("19 013", y.becomes(11, true), 38);
         // Greater by 5: 502 becomes 041.
