@@ -52,6 +52,8 @@ public final class LatticeTunnel {
     private static final int MOST_TOLERANCE = 1000;
     private static final int MOST_CYCLE = 60;
     private static final int MOST_SHIFT = 8;
+    /** No body takes so little: 3072 particles in 40 ticks, each with 2 or less across. */
+    private static final int BELOW_ALL_LIFTS = -1000000;
     private static final int PAD_LENGTH = 80;
     private static final int HISTORY = 4;
     private static final int SLOTS = 2;
@@ -480,7 +482,7 @@ public final class LatticeTunnel {
         needRange(ticks, 1, MOST_TICKS);
         needState(now.cells.sizeOf(body) > 0);
         int best = 0;
-        int most = Integer.MIN_VALUE;
+        int most = BELOW_ALL_LIFTS;
         for (int rows : SHIFTS_TRIED) {
             if (now.cells.canMoveBody(body, 0, rows)) {
                 later.copyFrom(now);
@@ -501,7 +503,7 @@ public final class LatticeTunnel {
         needRange(ticks, 1, MOST_TICKS);
         int period = now.gusts.numbers[gust * Gusts.NUMBERS + Gusts.PERIOD];
         int best = 0;
-        int most = Integer.MIN_VALUE;
+        int most = BELOW_ALL_LIFTS;
         for (int delay = 0; delay < period; delay++) {
             later.copyFrom(now);
             later.gusts.numbers[gust * Gusts.NUMBERS + Gusts.START] += delay;

@@ -120,7 +120,7 @@ public final class FaceTest {
                 .replaceAll("\"[^\"\n]*\"", "\"\"").replaceAll("'[^'\n]'", "' '");
         String[] forbidden = {"->", "::", "\\btry\\b", "\\bcatch\\b", "\\bfinally\\b", "\\bsynchronized\\b",
             "\\bassert\\b", "\\bwhile\\b", "\\bnull\\b", "\\bvar\\b", "\\bpackage\\b", "\\bdouble\\b", "\\bfloat\\b",
-            "\\w+Exact\\b", "System\\.(?!arraycopy)", "Arrays\\.(?!fill|copyOf)", "Integer\\.(?!bitCount|MIN_VALUE)",
+            "\\w+Exact\\b", "System\\.(?!arraycopy)", "Arrays\\.(?!fill|copyOf)", "Integer\\.(?!bitCount)",
             "Math\\.(?!abs)", "import (?!java\\.util\\.Arrays;)", "\\]\\["};
         for (String each : forbidden) {
             Check.holds("no " + each, !Pattern.compile(each).matcher(code).find());

@@ -46,133 +46,6 @@ public final class PromiseTest {
         Check.end("PromiseTest");
     }
 
-    // ---- helpers
-
-    private static LatticeTunnel make(int width, int height) {
-        LatticeTunnel x = new LatticeTunnel();
-        x.build(width, height);
-        return x;
-    }
-
-    private static LatticeTunnel ring(int width, int height) {
-        LatticeTunnel x = make(width, height);
-        x.set(0, 1);
-        return x;
-    }
-
-    private static LatticeTunnel typed(String text) {
-        LatticeTunnel x = new LatticeTunnel();
-        type(x, text);
-        return x;
-    }
-
-    private static void type(LatticeTunnel x, String text) {
-        for (char c : text.toCharArray()) {
-            x.type(c);
-        }
-    }
-
-    private static LatticeTunnel withBook(int width, int height, String book) {
-        LatticeTunnel x = make(width, height);
-        type(x, book);
-        x.rules();
-        return x;
-    }
-
-    /**
-     * A particle between body 0 on its left and body 1 on its right. It goes to the east in even ticks: body 1
-     * takes 4, 0, 4, 0, ..., and body 0 takes 0, -4, 0, -4, ...
-     */
-    private static LatticeTunnel rattle() {
-        LatticeTunnel x = make(8, 2);
-        x.solid(0, 2, 0);
-        x.solid(1, 4, 0);
-        x.put(3, 0, 0);
-        return x;
-    }
-
-    private static void run(LatticeTunnel x, int ticks) {
-        for (int left = ticks; left > 0; left -= 40) {
-            x.run(Math.min(left, 40));
-        }
-    }
-
-    /** All cells, the numbers of count() without the history and the pad, accounts, bodies, gusts, crossings. */
-    private static String picture(LatticeTunnel x) {
-        StringBuilder all = new StringBuilder();
-        for (int r = 0; r < x.count(1); r++) {
-            for (int c = 0; c < x.count(0); c++) {
-                all.append(x.cell(c, r)).append(' ');
-            }
-        }
-        for (int what = 0; what <= 11; what++) {
-            all.append(what == 7 || what == 8 ? 0 : x.count(what)).append(' ');
-        }
-        for (int what = 0; what <= 4; what++) {
-            all.append(x.particles(what)).append(' ').append(x.momentum(0, what)).append(' ');
-            all.append(x.momentum(1, what)).append(' ');
-        }
-        for (int b = 0; b < 6; b++) {
-            for (int ticks = 1; ticks <= 64; ticks++) {
-                all.append(x.recent(b, 0, ticks)).append(' ').append(x.recent(b, 1, ticks)).append(' ');
-            }
-            all.append(x.body(b, 1)).append(' ').append(x.body(b, 2)).append(' ');
-        }
-        for (int g = 0; g < x.count(3); g++) {
-            for (int what = 0; what <= 8; what++) {
-                all.append(x.gust(g, what)).append(' ');
-            }
-        }
-        for (int c = 0; c < x.count(0); c++) {
-            all.append(x.crossed(c)).append(' ');
-        }
-        for (int s = 0; s < 64; s++) {
-            all.append(x.becomes(s, false)).append(' ').append(x.becomes(s, true)).append(' ');
-        }
-        return all.toString();
-    }
-
-    /** A tunnel in which nothing is as at first. */
-    private static LatticeTunnel busy() {
-        LatticeTunnel x = withBook(9, 6, "*03>25|14;*0134>1245");
-        x.set(1, 1);
-        x.block(2, 4, 2, 5, 3);
-        x.fill(45, 0, 0, 2, 5);
-        x.inlet(1, 4, 0, 3, 2);
-        x.drain(7, 0, 2, 1, 2, 1);
-        x.run(7);
-        return x;
-    }
-
-    /** A call that throws changes nothing and records nothing; what it throws is looked at by the caller. */
-    private static void unchanged(String what, LatticeTunnel x, Check.Call call) {
-        String before = picture(x);
-        int history = x.count(7);
-        int pad = x.count(8);
-        Check.holds(what + " throws", Check.outcome(call).endsWith("Exception"));
-        Check.same(what + " changes", picture(x), before);
-        Check.due(what + " records", x.count(7), history);
-        Check.due(what + " in the pad", x.count(8), pad);
-    }
-
-    /** A change records the state before it, and undo brings that back. */
-    private static void isChange(String what, LatticeTunnel x, Check.Call call) {
-        String before = picture(x);
-        int history = x.count(7);
-        call.answer();
-        Check.due(what + " records", x.count(7), Math.min(4, history + 1));
-        Check.due(what + " undone", x.undo(), Math.min(3, history));
-        Check.same(what + " undone", picture(x), before);
-    }
-
-    private static void isNoChange(String what, LatticeTunnel x, Check.Call call) {
-        String before = picture(x);
-        int history = x.count(7);
-        call.answer();
-        Check.same(what + " changes", picture(x), before);
-        Check.due(what + " records", x.count(7), history);
-    }
-
     // ---- the tunnel
 
     private static void promise1() {
@@ -197,7 +70,7 @@ public final class PromiseTest {
     }
 
     private static void promise2() {
-        LatticeTunnel x = busy();
+        LatticeTunnel x = Tunnels.busy();
         x.set(0, 1);
         x.set(2, 1);
         Check.due("2 build", x.build(4, 2), 8);
@@ -229,9 +102,9 @@ public final class PromiseTest {
         for (int[] wrong : new int[][] {{3, 2}, {33, 2}, {4, 1}, {4, 17}, {-4, 4}, {Integer.MAX_VALUE, 4}}) {
             Check.noArgument("2 wrong", () -> x.build(wrong[0], wrong[1]));
         }
-        unchanged("2 build wrong", busy(), () -> busy().build(3, 2));
-        LatticeTunnel y = busy();
-        isChange("2 build", y, () -> y.build(5, 5));
+        Tunnels.unchanged("2 build wrong", Tunnels.busy(), () -> Tunnels.busy().build(3, 2));
+        LatticeTunnel y = Tunnels.busy();
+        Tunnels.isChange("2 build", y, () -> y.build(5, 5));
     }
 
     private static void promise3() {
@@ -249,14 +122,14 @@ public final class PromiseTest {
         Check.noArgument("3 what", () -> x.set(-1, 0));
         Check.noArgument("3 value", () -> x.set(0, 2));
         Check.noArgument("3 value", () -> x.set(0, -1));
-        LatticeTunnel y = busy();
-        isChange("3 set", y, () -> y.set(0, 1));
-        isChange("3 set to the same", y, () -> y.set(0, 0));
-        unchanged("3 set", y, () -> y.set(0, 2));
+        LatticeTunnel y = Tunnels.busy();
+        Tunnels.isChange("3 set", y, () -> y.set(0, 1));
+        Tunnels.isChange("3 set to the same", y, () -> y.set(0, 0));
+        Tunnels.unchanged("3 set", y, () -> y.set(0, 2));
     }
 
     private static void promise4() {
-        LatticeTunnel x = make(6, 4);
+        LatticeTunnel x = Tunnels.make(6, 4);
         Check.due("4 first", x.solid(3, 0, 0), 1);
         Check.due("4 second", x.solid(3, 5, 3), 2);
         Check.due("4 other", x.solid(0, 2, 2), 1);
@@ -271,12 +144,12 @@ public final class PromiseTest {
         Check.noIndex("4 row", () -> x.solid(0, 0, 4));
         Check.noIndex("4 row", () -> x.solid(0, 0, -1));
         Check.noIndex("4 body before state", () -> x.solid(6, 0, 0));
-        isChange("4 solid", x, () -> x.solid(5, 4, 0));
-        unchanged("4 solid", x, () -> x.solid(1, 0, 0));
+        Tunnels.isChange("4 solid", x, () -> x.solid(5, 4, 0));
+        Tunnels.unchanged("4 solid", x, () -> x.solid(1, 0, 0));
     }
 
     private static void promise5() {
-        LatticeTunnel x = make(6, 4);
+        LatticeTunnel x = Tunnels.make(6, 4);
         x.put(2, 1, 0);
         x.solid(4, 3, 1);
         Check.due("5 block", x.block(1, 2, 1, 3, 2), 2);
@@ -287,7 +160,7 @@ public final class PromiseTest {
         Check.due("5 beside", x.cell(4, 2) + x.cell(1, 2) + x.cell(2, 3) + x.cell(2, 0), 0);
         Check.due("5 whole", x.block(1, 0, 0, 5, 3), 20);
         Check.due("5 again", x.block(1, 0, 0, 5, 3), 0);
-        Check.due("5 one cell", make(6, 4).block(5, 5, 3, 5, 3), 1);
+        Check.due("5 one cell", Tunnels.make(6, 4).block(5, 5, 3, 5, 3), 1);
         Check.noIndex("5 body", () -> x.block(6, 0, 0, 1, 1));
         Check.noIndex("5 column", () -> x.block(0, -1, 0, 1, 1));
         Check.noIndex("5 row", () -> x.block(0, 0, 4, 1, 1));
@@ -296,13 +169,13 @@ public final class PromiseTest {
         Check.noIndex("5 index before order", () -> x.block(0, 2, 1, 1, -1));
         Check.noArgument("5 columns", () -> x.block(0, 2, 0, 1, 1));
         Check.noArgument("5 rows", () -> x.block(0, 0, 2, 1, 1));
-        LatticeTunnel y = busy();
-        isChange("5 block", y, () -> y.block(3, 0, 0, 8, 5));
-        unchanged("5 block", y, () -> y.block(3, 1, 0, 0, 5));
+        LatticeTunnel y = Tunnels.busy();
+        Tunnels.isChange("5 block", y, () -> y.block(3, 0, 0, 8, 5));
+        Tunnels.unchanged("5 block", y, () -> y.block(3, 1, 0, 0, 5));
     }
 
     private static void promise6() {
-        LatticeTunnel x = make(6, 4);
+        LatticeTunnel x = Tunnels.make(6, 4);
         x.block(4, 1, 1, 2, 1);
         Check.due("6 body", x.clear(1, 1), 4);
         Check.due("6 free", x.cell(1, 1), 0);
@@ -312,12 +185,12 @@ public final class PromiseTest {
         Check.noIndex("6 column", () -> x.clear(-1, 1));
         Check.noIndex("6 row", () -> x.clear(1, 4));
         Check.noIndex("6 row", () -> x.clear(1, -1));
-        isChange("6 clear", x, () -> x.clear(2, 1));
-        unchanged("6 clear", x, () -> x.clear(0, 0));
+        Tunnels.isChange("6 clear", x, () -> x.clear(2, 1));
+        Tunnels.unchanged("6 clear", x, () -> x.clear(0, 0));
     }
 
     private static void promise7() {
-        LatticeTunnel x = make(12, 11);
+        LatticeTunnel x = Tunnels.make(12, 11);
         x.block(2, 1, 1, 2, 2);
         Check.due("7 onto itself", x.shift(2, 1, 1), 4);
         Check.due("7 left", x.cell(1, 1) + x.cell(1, 2) + x.cell(2, 1), 0);
@@ -352,13 +225,13 @@ public final class PromiseTest {
         Check.noIndex("7 body before argument", () -> x.shift(6, 9, 0));
         Check.noIndex("7 body", () -> x.shift(-1, 0, 0));
         shiftAtTheEdges();
-        isChange("7 shift", x, () -> x.shift(2, 0, -1));
-        isChange("7 shift by nothing", x, () -> x.shift(2, 0, 0));
-        unchanged("7 shift", x, () -> x.shift(2, 1, 0));
+        Tunnels.isChange("7 shift", x, () -> x.shift(2, 0, -1));
+        Tunnels.isChange("7 shift by nothing", x, () -> x.shift(2, 0, 0));
+        Tunnels.unchanged("7 shift", x, () -> x.shift(2, 1, 0));
     }
 
     private static void shiftAtTheEdges() {
-        LatticeTunnel x = make(32, 16);
+        LatticeTunnel x = Tunnels.make(32, 16);
         x.block(1, 3, 7, 4, 8);
         x.shift(1, -3, -7);
         Check.due("7 to the first column and row", x.cell(0, 0), -2);
@@ -378,7 +251,7 @@ public final class PromiseTest {
     }
 
     private static void promise8() {
-        LatticeTunnel x = make(6, 4);
+        LatticeTunnel x = Tunnels.make(6, 4);
         int sum = 0;
         for (int d = 0; d < 6; d++) {
             sum += 1 << d;
@@ -398,12 +271,12 @@ public final class PromiseTest {
         Check.noIndex("8 column", () -> x.put(-1, 2, 0));
         Check.noIndex("8 row", () -> x.put(1, 4, 0));
         Check.noIndex("8 row", () -> x.put(1, -1, 0));
-        isChange("8 put", x, () -> x.put(0, 0, 0));
-        unchanged("8 put", x, () -> x.put(5, 3, 0));
+        Tunnels.isChange("8 put", x, () -> x.put(0, 0, 0));
+        Tunnels.unchanged("8 put", x, () -> x.put(5, 3, 0));
     }
 
     private static void promise9() {
-        LatticeTunnel x = make(6, 4);
+        LatticeTunnel x = Tunnels.make(6, 4);
         x.put(1, 1, 0);
         x.solid(0, 2, 1);
         // Two free cells of three; one of them has the east particle of 33 already.
@@ -425,13 +298,13 @@ public final class PromiseTest {
         Check.noIndex("9 column", () -> x.fill(1, -1, 0, 1, 1));
         Check.noIndex("9 row", () -> x.fill(1, 0, 4, 1, 3));
         Check.noIndex("9 last row", () -> x.fill(1, 0, 0, 1, 4));
-        LatticeTunnel y = busy();
-        isChange("9 fill", y, () -> y.fill(7, 0, 0, 8, 5));
-        unchanged("9 fill", y, () -> y.fill(0, 0, 0, 8, 5));
+        LatticeTunnel y = Tunnels.busy();
+        Tunnels.isChange("9 fill", y, () -> y.fill(7, 0, 0, 8, 5));
+        Tunnels.unchanged("9 fill", y, () -> y.fill(0, 0, 0, 8, 5));
     }
 
     private static void promise10() {
-        LatticeTunnel x = make(6, 4);
+        LatticeTunnel x = Tunnels.make(6, 4);
         x.fill(3, 0, 0, 2, 1);
         x.solid(3, 4, 1);
         Check.due("10 empty", x.empty(1, 0, 5, 1), 8);
@@ -449,15 +322,15 @@ public final class PromiseTest {
         Check.noIndex("10 index before order", () -> x.empty(2, 0, 1, 4));
         Check.noArgument("10 columns", () -> x.empty(1, 0, 0, 1));
         Check.noArgument("10 rows", () -> x.empty(0, 1, 0, 0));
-        LatticeTunnel y = busy();
-        isChange("10 empty", y, () -> y.empty(0, 0, 8, 5));
-        unchanged("10 empty", y, () -> y.empty(1, 0, 0, 5));
+        LatticeTunnel y = Tunnels.busy();
+        Tunnels.isChange("10 empty", y, () -> y.empty(0, 0, 8, 5));
+        Tunnels.unchanged("10 empty", y, () -> y.empty(1, 0, 0, 5));
     }
 
     // ---- gusts
 
     private static void promise11() {
-        LatticeTunnel x = make(6, 4);
+        LatticeTunnel x = Tunnels.make(6, 4);
         Check.due("11 number", x.inlet(1, 2, 3, 4, 2), 0);
         int[] numbers = {0, 0, 1, 2, 3, 4, 2, 0, 0};
         for (int what = 0; what <= 8; what++) {
@@ -475,7 +348,7 @@ public final class PromiseTest {
         Check.due("11 account", x.particles(1), 10);
         Check.due("11 momentum", x.momentum(0, 1), 20);
         Check.due("11 momentum", x.momentum(1, 1), 0);
-        LatticeTunnel full = make(6, 4);
+        LatticeTunnel full = Tunnels.make(6, 4);
         full.put(0, 0, 0);
         full.put(0, 1, 3);
         full.solid(0, 0, 2);
@@ -486,7 +359,7 @@ public final class PromiseTest {
     }
 
     private static void inletErrors() {
-        LatticeTunnel x = make(6, 4);
+        LatticeTunnel x = Tunnels.make(6, 4);
         Check.noIndex("11 row", () -> x.inlet(-1, 2, 0, 1, 1));
         Check.noIndex("11 row", () -> x.inlet(4, 4, 0, 1, 1));
         Check.noIndex("11 last row before start", () -> x.inlet(0, 4, -1, 1, 1));
@@ -497,18 +370,18 @@ public final class PromiseTest {
         Check.noArgument("11 period", () -> x.inlet(0, 1, 0, 61, 1));
         Check.noArgument("11 length", () -> x.inlet(0, 1, 0, 5, 0));
         Check.noArgument("11 length", () -> x.inlet(0, 1, 0, 5, 6));
-        isChange("11 inlet", x, () -> x.inlet(0, 3, 10000, 60, 60));
+        Tunnels.isChange("11 inlet", x, () -> x.inlet(0, 3, 10000, 60, 60));
         for (int i = 0; i < 6; i++) {
             Check.due("11 number", x.inlet(0, 3, 10000, 60, 60), i);
         }
         Check.noState("11 six", () -> x.inlet(0, 3, 0, 1, 1));
         Check.noArgument("11 argument before six", () -> x.inlet(0, 3, 0, 1, 2));
         Check.noIndex("11 row before six", () -> x.inlet(0, 4, 0, 1, 1));
-        unchanged("11 inlet", x, () -> x.inlet(0, 3, 0, 1, 1));
+        Tunnels.unchanged("11 inlet", x, () -> x.inlet(0, 3, 0, 1, 1));
     }
 
     private static void promise12() {
-        LatticeTunnel x = withBook(6, 4, "");
+        LatticeTunnel x = Tunnels.withBook(6, 4, "");
         x.put(2, 0, 3);
         x.fill(9, 2, 1, 2, 1);
         x.put(2, 2, 1);
@@ -537,16 +410,16 @@ public final class PromiseTest {
         Check.noArgument("12 start", () -> x.fan(0, 0, 0, 10001, 2, 1));
         Check.noArgument("12 period", () -> x.fan(0, 0, 0, 0, 61, 1));
         Check.noArgument("12 length", () -> x.fan(0, 0, 0, 0, 2, 3));
-        isChange("12 fan", x, () -> x.fan(5, 3, 3, 9, 60, 60));
+        Tunnels.isChange("12 fan", x, () -> x.fan(5, 3, 3, 9, 60, 60));
         for (int i = 1; i < 6; i++) {
             Check.due("12 number", x.fan(5, 3, 3, 9, 60, 60), i);
         }
         Check.noState("12 six", () -> x.fan(5, 3, 3, 9, 60, 60));
-        unchanged("12 fan", x, () -> x.fan(5, 3, 3, 9, 60, 60));
+        Tunnels.unchanged("12 fan", x, () -> x.fan(5, 3, 3, 9, 60, 60));
     }
 
     private static void promise13() {
-        LatticeTunnel x = withBook(6, 4, "");
+        LatticeTunnel x = Tunnels.withBook(6, 4, "");
         x.fill(35, 2, 1, 3, 2);
         x.solid(0, 2, 3);
         Check.due("13 number", x.drain(2, 0, 3, 1, 2, 1), 0);
@@ -567,22 +440,22 @@ public final class PromiseTest {
         Check.noIndex("13 row", () -> x.drain(0, 4, 3, 0, 2, 1));
         Check.noArgument("13 rows", () -> x.drain(0, 1, 0, 0, 2, 1));
         Check.noArgument("13 length", () -> x.drain(0, 0, 0, 0, 2, 0));
-        isChange("13 drain", x, () -> x.drain(5, 3, 3, 9, 60, 60));
+        Tunnels.isChange("13 drain", x, () -> x.drain(5, 3, 3, 9, 60, 60));
         for (int i = 1; i < 6; i++) {
             Check.due("13 number", x.drain(5, 3, 3, 9, 60, 60), i);
         }
         Check.noState("13 six", () -> x.drain(5, 3, 3, 9, 60, 60));
-        unchanged("13 drain", x, () -> x.drain(5, 3, 3, 9, 60, 60));
+        Tunnels.unchanged("13 drain", x, () -> x.drain(5, 3, 3, 9, 60, 60));
     }
 
     private static void promise14() {
-        LatticeTunnel x = make(6, 4);
+        LatticeTunnel x = Tunnels.make(6, 4);
         x.inlet(0, 0, 5, 2, 1);
         x.fan(3, 1, 1, 6, 3, 1);
         x.drain(4, 2, 2, 7, 4, 1);
         Check.noIndex("14 gust", () -> x.drop(3));
         Check.noIndex("14 gust", () -> x.drop(-1));
-        isChange("14 drop", x, () -> x.drop(0));
+        Tunnels.isChange("14 drop", x, () -> x.drop(0));
         Check.due("14 drop", x.drop(1), 2);
         Check.due("14 first stays", x.gust(0, 4), 5);
         int[] numbers = {2, 4, 2, 2, 7, 4, 1, 0, 0};
@@ -592,8 +465,8 @@ public final class PromiseTest {
         Check.due("14 drop", x.drop(0), 1);
         Check.due("14 drop", x.drop(0), 0);
         Check.noIndex("14 none", () -> x.drop(0));
-        unchanged("14 drop", x, () -> x.drop(0));
-        LatticeTunnel y = make(6, 4);
+        Tunnels.unchanged("14 drop", x, () -> x.drop(0));
+        LatticeTunnel y = Tunnels.make(6, 4);
         y.inlet(0, 3, 0, 1, 1);
         y.run(2);
         y.drop(0);
@@ -603,7 +476,7 @@ public final class PromiseTest {
         Check.due("14 blows no more", y.particles(4), 0);
         y.inlet(0, 3, 0, 1, 1);
         Check.due("14 new effect", y.gust(0, 7), 0);
-        LatticeTunnel z = make(6, 4);
+        LatticeTunnel z = Tunnels.make(6, 4);
         for (int i = 0; i < 6; i++) {
             z.fan(i, 0, 3, i, 10 + i, 1);
         }
@@ -631,12 +504,12 @@ public final class PromiseTest {
     }
 
     private static void promise16() {
-        LatticeTunnel x = typed("03>14");
+        LatticeTunnel x = Tunnels.typed("03>14");
         Check.due("16 wipe", x.wipe(), 5);
         Check.due("16 empty", x.wipe(), 0);
         Check.due("16 length", x.count(8), 0);
         Check.due("16 no change", x.count(7), 0);
-        type(x, "0");
+        Tunnels.type(x, "0");
         Check.due("16 anew", x.fault(0), 1);
     }
 
@@ -691,7 +564,7 @@ public final class PromiseTest {
         faultIs("0>1;x", 2, 3, 0);
         faultIs("0>1;", 2, 3, 0);
         faultIs("0>1;0>0", 2, 3, 0);
-        LatticeTunnel x = typed("0");
+        LatticeTunnel x = Tunnels.typed("0");
         Check.noArgument("17 what", () -> x.fault(3));
         Check.noArgument("17 what", () -> x.fault(-1));
         Check.due("17 pad stays", x.count(8), 1);
@@ -699,34 +572,34 @@ public final class PromiseTest {
     }
 
     private static void faultIs(String text, int position, int kind, int rule) {
-        LatticeTunnel x = typed(text);
+        LatticeTunnel x = Tunnels.typed(text);
         Check.due("17 position in " + text, x.fault(0), position);
         Check.due("17 kind in " + text, x.fault(1), kind);
         Check.due("17 rule in " + text, x.fault(2), rule);
     }
 
     private static void promise18() {
-        LatticeTunnel x = typed("03>25;*024>135;0124>0124");
+        LatticeTunnel x = Tunnels.typed("03>25;*024>135;0124>0124");
         Check.due("18 rules", x.rules(), 3);
         Check.due("18 pad", x.count(8), 0);
         Check.due("18 count", x.count(4), 3);
         Check.due("18 book", x.becomes(9, false), 36);
         Check.due("18 one alone", x.becomes(18, false), 18);
         Check.due("18 star", x.becomes(42, true), 21);
-        type(x, "03>1");
+        Tunnels.type(x, "03>1");
         Check.noState("18 fault", () -> x.rules());
         Check.due("18 stays", x.count(8), 4);
         Check.due("18 book stays", x.becomes(9, false), 36);
-        unchanged("18 rules", x, () -> x.rules());
+        Tunnels.unchanged("18 rules", x, () -> x.rules());
         x.wipe();
-        isChange("18 rules", x, () -> x.rules());
+        Tunnels.isChange("18 rules", x, () -> x.rules());
         Check.due("18 empty book", x.rules(), 0);
         for (int s = 0; s < 64; s++) {
             Check.due("18 empty book", x.becomes(s, s % 2 == 0), s);
         }
-        type(x, "0>0");
+        Tunnels.type(x, "0>0");
         x.rules();
-        type(x, "1");
+        Tunnels.type(x, "1");
         x.undo();
         Check.due("18 undo leaves the pad", x.count(8), 1);
         Check.due("18 undo", x.count(4), 0);
@@ -736,7 +609,7 @@ public final class PromiseTest {
                 "01>01", "12>12", "23>23", "34>34", "45>45", "05>05", "02>02", "13>13", "24>24", "35>35", "04>04",
                 "15>15", "03>14"}[(longest.length() - 4) / 6]);
         }
-        LatticeTunnel y = typed(longest.toString());
+        LatticeTunnel y = Tunnels.typed(longest.toString());
         Check.due("18 long", y.rules(), 12);
     }
 
@@ -752,7 +625,7 @@ public final class PromiseTest {
         Check.noArgument("19 state", () -> x.becomes(64, true));
         Check.noArgument("19 state", () -> x.becomes(-1, false));
         // 0 and 3 cancel, and so do 2 and 5: 013 and 125 have three particles each and the momentum of 1.
-        LatticeTunnel y = withBook(6, 4, "*013>125");
+        LatticeTunnel y = Tunnels.withBook(6, 4, "*013>125");
         Check.due("19 013", y.becomes(11, true), 38);
         // Greater by 5: 502 becomes 041.
         Check.due("19 025", y.becomes(37, false), 19);
@@ -770,20 +643,20 @@ public final class PromiseTest {
         collisions();
         gustsFirst();
         greatest();
-        LatticeTunnel x = make(6, 4);
+        LatticeTunnel x = Tunnels.make(6, 4);
         Check.due("20 run", x.run(1), 1);
         Check.due("20 run", x.run(40), 41);
         Check.due("20 time", x.count(2), 41);
         Check.noArgument("20 ticks", () -> x.run(0));
         Check.noArgument("20 ticks", () -> x.run(41));
-        LatticeTunnel y = busy();
-        isChange("20 run", y, () -> y.run(40));
-        unchanged("20 run", y, () -> y.run(0));
+        LatticeTunnel y = Tunnels.busy();
+        Tunnels.isChange("20 run", y, () -> y.run(40));
+        Tunnels.unchanged("20 run", y, () -> y.run(0));
     }
 
     private static void movesIs(int column, int row, int[][] places) {
         for (int d = 0; d < 6; d++) {
-            LatticeTunnel x = make(8, 6);
+            LatticeTunnel x = Tunnels.make(8, 6);
             x.put(column, row, d);
             x.run(1);
             Check.due("20 direction " + d, x.cell(places[d][0], places[d][1]), 1 << d);
@@ -792,7 +665,7 @@ public final class PromiseTest {
     }
 
     private static void wallIs(int smooth, int row, int direction, int becomes, int along, int across) {
-        LatticeTunnel x = make(8, 4);
+        LatticeTunnel x = Tunnels.make(8, 4);
         x.set(row == 0 ? 1 : 2, smooth);
         x.put(3, row, direction);
         x.run(1);
@@ -812,7 +685,7 @@ public final class PromiseTest {
         wallIs(1, 3, 4, 2, 0, -2);
         wallIs(1, 3, 5, 1, 0, -2);
         // The wall comes before the end: row 0 is even, and north-west of column 0 is beyond the left end too.
-        LatticeTunnel x = make(4, 2);
+        LatticeTunnel x = Tunnels.make(4, 2);
         x.put(0, 0, 2);
         x.put(3, 1, 5);
         x.run(1);
@@ -821,7 +694,7 @@ public final class PromiseTest {
     }
 
     private static void leaves(int column, int row, int direction, int along, int across) {
-        LatticeTunnel x = make(8, 6);
+        LatticeTunnel x = Tunnels.make(8, 6);
         x.put(column, row, direction);
         x.run(1);
         Check.due("20 left", x.particles(3), 1);
@@ -831,7 +704,7 @@ public final class PromiseTest {
     }
 
     private static void goesRound(int column, int row, int direction, int toColumn, int toRow) {
-        LatticeTunnel x = ring(8, 6);
+        LatticeTunnel x = Tunnels.ring(8, 6);
         x.put(column, row, direction);
         x.run(1);
         Check.due("20 ring", x.cell(toColumn, toRow), 1 << direction);
@@ -851,7 +724,7 @@ public final class PromiseTest {
         goesRound(0, 2, 4, 7, 3);
         goesRound(7, 3, 1, 0, 2);
         goesRound(7, 3, 5, 0, 4);
-        LatticeTunnel x = ring(32, 2);
+        LatticeTunnel x = Tunnels.ring(32, 2);
         x.put(31, 0, 0);
         x.put(0, 1, 3);
         x.run(1);
@@ -864,7 +737,7 @@ public final class PromiseTest {
         int[] along = {4, 2, -2, -4, -2, 2};
         int[] across = {0, 2, 2, 0, -2, -2};
         for (int d = 0; d < 6; d++) {
-            LatticeTunnel x = make(8, 6);
+            LatticeTunnel x = Tunnels.make(8, 6);
             x.solid(d, around[d][0], around[d][1]);
             x.put(3, 2, d);
             x.run(1);
@@ -875,7 +748,7 @@ public final class PromiseTest {
             Check.due("20 bodies across", x.momentum(1, 2), across[d]);
             Check.due("20 other body", x.body((d + 1) % 6, 1), 0);
         }
-        LatticeTunnel x = ring(8, 6);
+        LatticeTunnel x = Tunnels.ring(8, 6);
         x.solid(4, 0, 2);
         x.put(7, 2, 0);
         x.run(1);
@@ -884,51 +757,51 @@ public final class PromiseTest {
     }
 
     private static void collisions() {
-        LatticeTunnel x = make(8, 6);
+        LatticeTunnel x = Tunnels.make(8, 6);
         x.fill(9, 2, 2, 3, 2);
         x.run(1);
         // Cell (2, 2) is even and gets 1 and 4; (3, 2) is odd and gets 2 and 5.
         Check.due("20 even cell", x.cell(2, 1), 2 + 4);
         Check.due("20 even cell", x.cell(1, 3), 16);
         Check.due("20 odd cell", x.cell(3, 3), 32);
-        LatticeTunnel y = make(8, 6);
+        LatticeTunnel y = Tunnels.make(8, 6);
         y.run(1);
         y.fill(9, 2, 2, 2, 2);
         y.run(1);
         Check.due("20 odd by the time", y.cell(1, 1), 4);
         Check.due("20 odd by the time", y.cell(2, 3), 32);
-        LatticeTunnel z = make(8, 6);
+        LatticeTunnel z = Tunnels.make(8, 6);
         z.fill(9, 2, 3, 2, 3);
         z.run(1);
         Check.due("20 odd by the row", z.cell(2, 2), 4);
         Check.due("20 odd by the row", z.cell(3, 4), 32);
         // A cell collides once in a tick: 03 becomes 14, and that does not become 25 at once.
-        LatticeTunnel once = withBook(8, 6, "03>14;14>25;25>03");
+        LatticeTunnel once = Tunnels.withBook(8, 6, "03>14;14>25;25>03");
         once.fill(9, 2, 2, 2, 2);
         once.run(1);
         Check.due("20 once", once.cell(2, 1) + once.cell(1, 3), 2 + 16);
     }
 
     private static void gustsFirst() {
-        LatticeTunnel x = withBook(8, 4, "");
+        LatticeTunnel x = Tunnels.withBook(8, 4, "");
         x.inlet(0, 0, 0, 1, 1);
         x.drain(0, 0, 0, 0, 1, 1);
         x.run(1);
         Check.due("20 put in, then drained", x.particles(4), 0);
         Check.due("20 put in", x.gust(0, 7), 1);
         Check.due("20 drained", x.gust(1, 7), 1);
-        LatticeTunnel y = withBook(8, 4, "");
+        LatticeTunnel y = Tunnels.withBook(8, 4, "");
         y.drain(0, 0, 0, 0, 1, 1);
         y.inlet(0, 0, 0, 1, 1);
         y.run(1);
         Check.due("20 drained, then put in", y.cell(1, 0), 1);
         Check.due("20 drained", y.gust(0, 7), 0);
-        LatticeTunnel z = make(8, 4);
+        LatticeTunnel z = Tunnels.make(8, 4);
         z.put(0, 2, 3);
         z.inlet(2, 2, 0, 60, 1);
         z.run(1);
         Check.due("20 gusts before collisions", z.cell(0, 1), 2);
-        LatticeTunnel v = make(8, 4);
+        LatticeTunnel v = Tunnels.make(8, 4);
         v.run(20);
         v.inlet(1, 1, 15, 7, 1);
         Check.due("20 remainder 5", v.gust(0, 8), 0);
@@ -937,7 +810,7 @@ public final class PromiseTest {
     }
 
     private static void greatest() {
-        LatticeTunnel x = ring(32, 16);
+        LatticeTunnel x = Tunnels.ring(32, 16);
         x.fill(9, 0, 0, 31, 15);
         for (int i = 0; i < 6; i++) {
             x.drain(31, 15, 15, 10000, 1, 1);
@@ -946,7 +819,7 @@ public final class PromiseTest {
         // Each cell gives its pair to two neighbours; at the walls one half comes back.
         Check.due("20 all in the greatest tunnel", x.particles(4), 1024);
         Check.due("20 walls", x.momentum(1, 3), 0);
-        LatticeTunnel y = make(32, 16);
+        LatticeTunnel y = Tunnels.make(32, 16);
         y.put(31, 14, 1);
         y.put(0, 15, 2);
         y.put(0, 15, 4);
@@ -959,7 +832,7 @@ public final class PromiseTest {
     }
 
     private static void promise21() {
-        LatticeTunnel x = ring(6, 4);
+        LatticeTunnel x = Tunnels.ring(6, 4);
         Check.holds("21 ring", x.reversible());
         x.set(0, 0);
         Check.holds("21 open", !x.reversible());
@@ -968,7 +841,7 @@ public final class PromiseTest {
         Check.holds("21 gust", !x.reversible());
         x.drop(0);
         Check.holds("21 no gust", x.reversible());
-        isNoChange("21 reversible", x, () -> x.reversible() ? 1 : 0);
+        Tunnels.isNoChange("21 reversible", x, () -> x.reversible() ? 1 : 0);
         reversibleIs("", true);
         reversibleIs("03>14", false);
         reversibleIs("03>14;14>03", true);
@@ -981,33 +854,33 @@ public final class PromiseTest {
     }
 
     private static void reversibleIs(String book, boolean due) {
-        LatticeTunnel x = withBook(6, 4, book);
+        LatticeTunnel x = Tunnels.withBook(6, 4, book);
         x.set(0, 1);
         Check.due("21 " + book, x.reversible() ? 1 : 0, due ? 1 : 0);
     }
 
     private static void promise22() {
-        LatticeTunnel x = withBook(7, 5, "*03>14|25;*024>135;*0134>1245|0235");
+        LatticeTunnel x = Tunnels.withBook(7, 5, "*03>14|25;*024>135;*0134>1245|0235");
         x.set(0, 1);
         x.set(2, 1);
         x.block(3, 2, 1, 3, 2);
         x.fill(45, 0, 0, 1, 4);
         x.fill(22, 4, 1, 6, 3);
-        String start = picture(x);
+        String start = Tunnels.picture(x);
         x.run(1);
         x.run(32);
-        Check.holds("22 something moved", !picture(x).equals(start));
+        Check.holds("22 something moved", !Tunnels.picture(x).equals(start));
         Check.due("22 back", x.back(33), 0);
-        Check.same("22 as before", picture(x), start);
-        LatticeTunnel turning = withBook(7, 5, "013>125;125>013;*0123>0123");
+        Check.same("22 as before", Tunnels.picture(x), start);
+        LatticeTunnel turning = Tunnels.withBook(7, 5, "013>125;125>013;*0123>0123");
         turning.set(0, 1);
         turning.set(1, 1);
         turning.fill(11, 0, 0, 6, 4);
         turning.fill(38, 2, 2, 5, 3);
-        String before = picture(turning);
+        String before = Tunnels.picture(turning);
         turning.run(9);
         turning.back(9);
-        Check.same("22 rules that are not their own mirror", picture(turning), before);
+        Check.same("22 rules that are not their own mirror", Tunnels.picture(turning), before);
         backOffBodyAndWall();
         backBeyondTheRecord();
         Check.noArgument("22 ticks", () -> x.back(0));
@@ -1015,15 +888,15 @@ public final class PromiseTest {
         Check.noState("22 time", () -> x.back(1));
         x.run(5);
         Check.noState("22 time", () -> x.back(6));
-        unchanged("22 back", x, () -> x.back(6));
-        isChange("22 back", x, () -> x.back(5));
+        Tunnels.unchanged("22 back", x, () -> x.back(6));
+        Tunnels.isChange("22 back", x, () -> x.back(5));
         x.set(0, 0);
         Check.noState("22 open", () -> x.back(1));
         Check.noArgument("22 argument before state", () -> x.back(41));
     }
 
     private static void backOffBodyAndWall() {
-        LatticeTunnel x = ring(8, 2);
+        LatticeTunnel x = Tunnels.ring(8, 2);
         x.run(1);
         x.solid(1, 4, 0);
         x.put(3, 0, 3);
@@ -1049,9 +922,9 @@ public final class PromiseTest {
     }
 
     private static void backBeyondTheRecord() {
-        LatticeTunnel x = rattle();
+        LatticeTunnel x = Tunnels.rattle();
         x.set(0, 1);
-        run(x, 70);
+        Tunnels.run(x, 70);
         Check.due("22 record", x.count(6), 64);
         x.back(1);
         Check.due("22 record", x.count(6), 63);
@@ -1072,7 +945,7 @@ public final class PromiseTest {
     // ---- what there is
 
     private static void promise23() {
-        LatticeTunnel x = make(6, 4);
+        LatticeTunnel x = Tunnels.make(6, 4);
         x.fill(63, 5, 3, 5, 3);
         x.solid(0, 0, 0);
         x.solid(5, 0, 3);
@@ -1084,11 +957,11 @@ public final class PromiseTest {
         Check.noIndex("23 column", () -> x.cell(-1, 0));
         Check.noIndex("23 row", () -> x.cell(0, 4));
         Check.noIndex("23 row", () -> x.cell(0, -1));
-        isNoChange("23 cell", x, () -> x.cell(0, 0));
+        Tunnels.isNoChange("23 cell", x, () -> x.cell(0, 0));
     }
 
     private static void promise24() {
-        LatticeTunnel x = make(6, 4);
+        LatticeTunnel x = Tunnels.make(6, 4);
         x.fill(7, 1, 1, 3, 2);
         x.solid(0, 5, 3);
         Check.due("24 all", x.density(0, 0, 5, 3), 18);
@@ -1101,11 +974,11 @@ public final class PromiseTest {
         Check.noIndex("24 last column", () -> x.density(0, 0, 6, 0));
         Check.noArgument("24 columns", () -> x.density(1, 0, 0, 0));
         Check.noArgument("24 rows", () -> x.density(0, 1, 0, 0));
-        isNoChange("24 density", x, () -> x.density(0, 0, 1, 1));
+        Tunnels.isNoChange("24 density", x, () -> x.density(0, 0, 1, 1));
     }
 
     private static void promise25() {
-        LatticeTunnel x = make(6, 4);
+        LatticeTunnel x = Tunnels.make(6, 4);
         int[] along = {2, 1, -1, -2, -1, 1};
         int[] across = {0, 1, 1, 0, -1, -1};
         for (int d = 0; d < 6; d++) {
@@ -1123,7 +996,7 @@ public final class PromiseTest {
         Check.noArgument("25 rows", () -> x.wind(0, 0, 1, 1, 0));
         Check.noIndex("25 index before axis", () -> x.wind(2, 0, 0, 6, 1));
         Check.noIndex("25 row", () -> x.wind(0, 0, 4, 1, 4));
-        isNoChange("25 wind", x, () -> x.wind(0, 0, 0, 1, 1));
+        Tunnels.isNoChange("25 wind", x, () -> x.wind(0, 0, 0, 1, 1));
     }
 
     private static void crossedIs(LatticeTunnel x, int... due) {
@@ -1133,7 +1006,7 @@ public final class PromiseTest {
     }
 
     private static void promise26() {
-        LatticeTunnel x = withBook(5, 4, "");
+        LatticeTunnel x = Tunnels.withBook(5, 4, "");
         // In the even row 2: from 1 to the east and back from 3 to the west; north-west and south-west of 2.
         x.put(1, 2, 0);
         x.put(3, 2, 3);
@@ -1171,11 +1044,11 @@ public final class PromiseTest {
         crossedIs(x, 0, 0, 0, 0, 0);
         Check.noIndex("26 column", () -> x.crossed(5));
         Check.noIndex("26 column", () -> x.crossed(-1));
-        isNoChange("26 crossed", x, () -> x.crossed(0));
+        Tunnels.isNoChange("26 crossed", x, () -> x.crossed(0));
     }
 
     private static void promise27() {
-        LatticeTunnel x = make(6, 4);
+        LatticeTunnel x = Tunnels.make(6, 4);
         x.inlet(0, 1, 0, 1, 1);
         x.drain(5, 1, 3, 2, 9, 4);
         int[] numbers = {2, 5, 1, 3, 2, 9, 4, 0, 0};
@@ -1190,13 +1063,13 @@ public final class PromiseTest {
         Check.noArgument("27 what", () -> x.gust(0, 9));
         Check.noArgument("27 what", () -> x.gust(0, -1));
         Check.noIndex("27 none", () -> new LatticeTunnel().gust(0, 0));
-        isNoChange("27 gust", x, () -> x.gust(0, 8));
+        Tunnels.isNoChange("27 gust", x, () -> x.gust(0, 8));
     }
 
     private static void promise28() {
-        LatticeTunnel x = rattle();
+        LatticeTunnel x = Tunnels.rattle();
         x.solid(1, 6, 1);
-        run(x, 3);
+        Tunnels.run(x, 3);
         int[] numbers = {2, 8, 0, 4, 6, 0, 1};
         for (int what = 0; what <= 6; what++) {
             Check.due("28 number " + what, x.body(1, what), numbers[what]);
@@ -1209,12 +1082,12 @@ public final class PromiseTest {
         x.clear(6, 1);
         Check.due("28 sum stays", x.body(1, 1), 8);
         Check.due("28 no cells now", x.body(1, 3), -1);
-        LatticeTunnel widest = make(32, 16);
+        LatticeTunnel widest = Tunnels.make(32, 16);
         widest.solid(0, 31, 15);
         for (int what = 3; what <= 6; what++) {
             Check.due("28 corner", widest.body(0, what), what < 5 ? 31 : 15);
         }
-        LatticeTunnel corner = make(32, 16);
+        LatticeTunnel corner = Tunnels.make(32, 16);
         corner.solid(0, 0, 0);
         for (int what = 3; what <= 6; what++) {
             Check.due("28 first corner", corner.body(0, what), 0);
@@ -1224,11 +1097,11 @@ public final class PromiseTest {
         Check.noIndex("28 body before what", () -> x.body(-1, 7));
         Check.noArgument("28 what", () -> x.body(0, 7));
         Check.noArgument("28 what", () -> x.body(0, -1));
-        isNoChange("28 body", x, () -> x.body(0, 0));
+        Tunnels.isNoChange("28 body", x, () -> x.body(0, 0));
     }
 
     private static void promise29() {
-        LatticeTunnel x = make(8, 6);
+        LatticeTunnel x = Tunnels.make(8, 6);
         x.solid(2, 3, 1);
         x.put(3, 2, 1);
         x.run(1);
@@ -1238,27 +1111,27 @@ public final class PromiseTest {
         Check.due("29 record stays", x.recent(2, 1, 1), 2);
         Check.due("29 account stays", x.momentum(1, 2), 2);
         Check.due("29 again", x.zero(2), 0);
-        LatticeTunnel y = rattle();
-        run(y, 4);
+        LatticeTunnel y = Tunnels.rattle();
+        Tunnels.run(y, 4);
         y.zero(0);
         Check.due("29 other body stays", y.body(1, 1), 8);
-        isChange("29 zero", y, () -> y.zero(1));
+        Tunnels.isChange("29 zero", y, () -> y.zero(1));
         Check.noIndex("29 body", () -> y.zero(6));
         Check.noIndex("29 body", () -> y.zero(-1));
-        unchanged("29 zero", y, () -> y.zero(6));
+        Tunnels.unchanged("29 zero", y, () -> y.zero(6));
     }
 
     private static void promise30() {
-        LatticeTunnel x = rattle();
+        LatticeTunnel x = Tunnels.rattle();
         Check.due("30 nothing recorded", x.recent(1, 0, 64), 0);
-        run(x, 5);
+        Tunnels.run(x, 5);
         int[] due = {4, 4, 8, 8, 12, 12, 12};
         for (int ticks = 1; ticks <= due.length; ticks++) {
             Check.due("30 latest " + ticks, x.recent(1, 0, ticks), due[ticks - 1]);
         }
         Check.due("30 other body", x.recent(0, 0, 2), -4);
         Check.due("30 across", x.recent(1, 1, 5), 0);
-        run(x, 95);
+        Tunnels.run(x, 95);
         Check.due("30 all kept", x.recent(1, 0, 64), 128);
         Check.due("30 odd", x.recent(1, 0, 63), 124);
         x.clear(4, 0);
@@ -1269,11 +1142,11 @@ public final class PromiseTest {
         Check.noArgument("30 ticks", () -> x.recent(1, 0, 65));
         Check.noIndex("30 body before axis", () -> x.recent(6, 2, 1));
         Check.noIndex("30 body", () -> x.recent(-1, 0, 1));
-        isNoChange("30 recent", x, () -> x.recent(0, 0, 1));
+        Tunnels.isNoChange("30 recent", x, () -> x.recent(0, 0, 1));
     }
 
     private static void promise31() {
-        LatticeTunnel x = rattle();
+        LatticeTunnel x = Tunnels.rattle();
         Check.holds("31 nothing recorded", !x.steady(5, 1, 1000));
         x.run(1);
         Check.holds("31 one recorded", !x.steady(1, 1, 1000));
@@ -1285,13 +1158,13 @@ public final class PromiseTest {
         Check.holds("31 three recorded", !x.steady(1, 2, 0));
         x.run(1);
         Check.holds("31 four recorded", x.steady(1, 2, 0));
-        run(x, 60);
+        Tunnels.run(x, 60);
         Check.holds("31 longest", x.steady(1, 32, 0));
         x.clear(4, 0);
         x.run(2);
         Check.holds("31 less now", !x.steady(1, 2, 3));
         // The particle that goes up hits the body; the sums across differ, those along too.
-        LatticeTunnel y = make(8, 6);
+        LatticeTunnel y = Tunnels.make(8, 6);
         y.solid(2, 3, 1);
         y.run(1);
         y.put(3, 2, 1);
@@ -1307,11 +1180,11 @@ public final class PromiseTest {
         Check.noArgument("31 tolerance", () -> x.steady(0, 1, 1001) ? 1 : 0);
         Check.noIndex("31 body", () -> x.steady(6, 0, 0) ? 1 : 0);
         Check.noIndex("31 body", () -> x.steady(-1, 1, 0) ? 1 : 0);
-        isNoChange("31 steady", x, () -> x.steady(0, 1, 0) ? 1 : 0);
+        Tunnels.isNoChange("31 steady", x, () -> x.steady(0, 1, 0) ? 1 : 0);
     }
 
     private static void promise32() {
-        LatticeTunnel x = withBook(6, 4, "");
+        LatticeTunnel x = Tunnels.withBook(6, 4, "");
         x.put(5, 0, 0);
         x.fill(8, 0, 2, 3, 2);
         x.inlet(3, 3, 0, 1, 1);
@@ -1325,7 +1198,7 @@ public final class PromiseTest {
         }
         Check.noArgument("32 what", () -> x.particles(5));
         Check.noArgument("32 what", () -> x.particles(-1));
-        isNoChange("32 particles", x, () -> x.particles(4));
+        Tunnels.isNoChange("32 particles", x, () -> x.particles(4));
         x.build(6, 4);
         for (int what = 0; what <= 4; what++) {
             Check.due("32 built anew " + what, x.particles(what), 0);
@@ -1333,7 +1206,7 @@ public final class PromiseTest {
     }
 
     private static void promise33() {
-        LatticeTunnel x = withBook(6, 4, "");
+        LatticeTunnel x = Tunnels.withBook(6, 4, "");
         x.put(5, 0, 0);
         x.put(1, 0, 1);
         x.put(0, 2, 2);
@@ -1358,11 +1231,11 @@ public final class PromiseTest {
         Check.noArgument("33 axis", () -> x.momentum(-1, 0));
         Check.noArgument("33 what", () -> x.momentum(0, 6));
         Check.noArgument("33 what", () -> x.momentum(0, -1));
-        isNoChange("33 momentum", x, () -> x.momentum(0, 5));
+        Tunnels.isNoChange("33 momentum", x, () -> x.momentum(0, 5));
     }
 
     private static void promise34() {
-        LatticeTunnel x = withBook(9, 5, "*03>14;*024>135;0>0");
+        LatticeTunnel x = Tunnels.withBook(9, 5, "*03>14;*024>135;0>0");
         x.set(0, 1);
         x.set(2, 1);
         x.block(0, 0, 0, 1, 1);
@@ -1370,20 +1243,20 @@ public final class PromiseTest {
         x.inlet(2, 3, 0, 1, 1);
         x.run(40);
         x.run(39);
-        type(x, "0>0;1>1");
+        Tunnels.type(x, "0>0;1>1");
         int[] due = {9, 5, 79, 1, 3, 5, 64, 4, 7, 1, 0, 1};
         for (int what = 0; what <= 11; what++) {
             Check.due("34 count " + what, x.count(what), due[what]);
         }
         Check.noArgument("34 what", () -> x.count(12));
         Check.noArgument("34 what", () -> x.count(-1));
-        isNoChange("34 count", x, () -> x.count(0));
+        Tunnels.isNoChange("34 count", x, () -> x.count(0));
     }
 
     // ---- forecasts
 
     private static void promise35() {
-        LatticeTunnel x = rattle();
+        LatticeTunnel x = Tunnels.rattle();
         Check.due("35 one", x.ahead(1, 0, 1), 4);
         Check.due("35 two", x.ahead(1, 0, 2), 4);
         Check.due("35 three", x.ahead(1, 0, 3), 8);
@@ -1392,8 +1265,8 @@ public final class PromiseTest {
         Check.due("35 most", x.ahead(0, 0, 40), -80);
         x.run(3);
         Check.due("35 the next ones alone", x.ahead(1, 0, 1), 0);
-        LatticeTunnel y = busy();
-        isNoChange("35 ahead", y, () -> y.ahead(2, 0, 40));
+        LatticeTunnel y = Tunnels.busy();
+        Tunnels.isNoChange("35 ahead", y, () -> y.ahead(2, 0, 40));
         int before = y.body(2, 1);
         int found = y.ahead(2, 0, 13);
         y.run(13);
@@ -1413,21 +1286,21 @@ public final class PromiseTest {
 
     private static void promise36() {
         cycleIs("nothing moves", new LatticeTunnel(), 2, 0, 2);
-        cycleIs("rattle", rattle(), 60, 0, 2);
+        cycleIs("rattle", Tunnels.rattle(), 60, 0, 2);
         // Round a ring of 5 columns: the same after 5 ticks, and after an even number after 10.
-        LatticeTunnel odd = ring(5, 2);
+        LatticeTunnel odd = Tunnels.ring(5, 2);
         odd.put(0, 0, 0);
         cycleIs("odd ring", odd, 10, 0, 10);
         cycleIs("odd ring", odd, 60, 0, 10);
         cycleIs("odd ring", odd, 9, -1, -1);
         // A particle leaves in the third tick.
-        LatticeTunnel out = make(6, 2);
+        LatticeTunnel out = Tunnels.make(6, 2);
         out.put(3, 0, 0);
         cycleIs("leaves", out, 60, 3, 2);
         cycleIs("leaves", out, 5, 3, 2);
         cycleIs("leaves", out, 4, -1, -1);
         // Blown in at times 2, 5, 8, ..., and bounced off the body and out: empty two ticks later.
-        LatticeTunnel gust = make(6, 2);
+        LatticeTunnel gust = Tunnels.make(6, 2);
         gust.solid(0, 1, 0);
         gust.inlet(0, 0, 2, 3, 1);
         cycleIs("gust", gust, 60, 2, 6);
@@ -1451,8 +1324,8 @@ public final class PromiseTest {
         late.fan(2, 0, 0, 10000, 60, 1);
         late.drop(1);
         cycleIs("dropped", late, 60, 58, 2);
-        LatticeTunnel y = busy();
-        isNoChange("36 cycle", y, () -> y.cycle(60, 0));
+        LatticeTunnel y = Tunnels.busy();
+        Tunnels.isNoChange("36 cycle", y, () -> y.cycle(60, 0));
         Check.noArgument("36 ticks", () -> y.cycle(1, 0));
         Check.noArgument("36 ticks", () -> y.cycle(61, 0));
         Check.noArgument("36 what", () -> y.cycle(2, 2));
@@ -1460,7 +1333,7 @@ public final class PromiseTest {
     }
 
     private static void promise37() {
-        LatticeTunnel x = rattle();
+        LatticeTunnel x = Tunnels.rattle();
         Check.due("37 two and two", x.settles(1, 2, 0, 40), 4);
         Check.due("37 limit", x.settles(1, 2, 0, 4), 4);
         Check.due("37 below", x.settles(1, 2, 0, 3), -1);
@@ -1471,11 +1344,11 @@ public final class PromiseTest {
         Check.due("37 later", x.settles(1, 2, 0, 40), 1);
         x.run(1);
         Check.due("37 now", x.settles(1, 2, 0, 0), 0);
-        run(x, 30);
+        Tunnels.run(x, 30);
         Check.due("37 longest", x.settles(1, 32, 0, 40), 30);
         Check.due("37 most tolerant", x.settles(1, 32, 1000, 40), 30);
-        LatticeTunnel y = busy();
-        isNoChange("37 settles", y, () -> y.settles(2, 4, 2, 40));
+        LatticeTunnel y = Tunnels.busy();
+        Tunnels.isNoChange("37 settles", y, () -> y.settles(2, 4, 2, 40));
         Check.noArgument("37 ticks", () -> x.settles(1, 0, 0, 40));
         Check.noArgument("37 ticks", () -> x.settles(1, 33, 0, 40));
         Check.noArgument("37 tolerance", () -> x.settles(1, 1, -1, 40));
@@ -1487,7 +1360,7 @@ public final class PromiseTest {
     }
 
     private static void promise38() {
-        LatticeTunnel x = make(8, 8);
+        LatticeTunnel x = Tunnels.make(8, 8);
         x.solid(0, 3, 4);
         Check.due("38 nothing to take", x.bestShift(0, 40), 0);
         // Goes up from (3, 6) into (3, 5): only a body one row further down takes it.
@@ -1502,7 +1375,7 @@ public final class PromiseTest {
         x.solid(1, 3, 3);
         Check.due("38 a body where one would be", x.bestShift(0, 1), 1);
         // Goes down from (3, 1) into (3, 2): whoever is there takes less than nothing.
-        LatticeTunnel y = make(8, 8);
+        LatticeTunnel y = Tunnels.make(8, 8);
         y.solid(0, 3, 2);
         y.put(3, 1, 4);
         Check.due("38 away", y.bestShift(0, 1), 1);
@@ -1510,16 +1383,16 @@ public final class PromiseTest {
         Check.due("38 further away", y.bestShift(0, 1), -2);
         y.solid(1, 3, 0);
         Check.due("38 further away", y.bestShift(0, 1), 2);
-        LatticeTunnel z = make(8, 9);
+        LatticeTunnel z = Tunnels.make(8, 9);
         z.solid(0, 3, 4);
         z.put(3, 8, 1);
         Check.due("38 three down", z.bestShift(0, 1), 3);
         // The row above is taken by the particle itself, and there is none below.
-        LatticeTunnel last = make(8, 6);
+        LatticeTunnel last = Tunnels.make(8, 6);
         last.solid(0, 3, 5);
         last.put(3, 4, 5);
         Check.due("38 within the tunnel", last.bestShift(0, 1), -2);
-        isNoChange("38 bestShift", z, () -> z.bestShift(0, 40));
+        Tunnels.isNoChange("38 bestShift", z, () -> z.bestShift(0, 40));
         Check.noState("38 no cells", () -> x.bestShift(5, 1));
         Check.noArgument("38 ticks before state", () -> x.bestShift(5, 0));
         Check.noArgument("38 ticks", () -> x.bestShift(0, 41));
@@ -1529,28 +1402,28 @@ public final class PromiseTest {
 
     private static void promise39() {
         // A particle on its way up to a body, and a drain where it is now.
-        LatticeTunnel x = make(8, 6);
+        LatticeTunnel x = Tunnels.make(8, 6);
         x.solid(2, 3, 1);
         x.put(3, 2, 1);
         x.drain(3, 2, 2, 0, 3, 1);
         Check.due("39 a tick later", x.bestStart(0, 2, 1), 1);
         Check.due("39 another body", x.bestStart(0, 1, 1), 0);
         // On its way down: the drain should blow now.
-        LatticeTunnel y = make(8, 6);
+        LatticeTunnel y = Tunnels.make(8, 6);
         y.solid(2, 3, 2);
         y.put(3, 1, 4);
         y.drain(3, 1, 1, 0, 3, 1);
         Check.due("39 now", y.bestStart(0, 2, 1), 0);
         // With the start at 1 and a period of 4, the next blow at time 2 comes with a start of 2.
-        LatticeTunnel z = make(8, 6);
+        LatticeTunnel z = Tunnels.make(8, 6);
         z.run(2);
         z.solid(2, 3, 2);
         z.put(3, 1, 4);
         z.drain(3, 1, 1, 1, 4, 1);
         Check.due("39 one later", z.bestStart(0, 2, 1), 1);
-        isNoChange("39 bestStart", z, () -> z.bestStart(0, 2, 40));
+        Tunnels.isNoChange("39 bestStart", z, () -> z.bestStart(0, 2, 40));
         // A period later the drain would spare the particle, but that is too late by one.
-        LatticeTunnel v = make(8, 6);
+        LatticeTunnel v = Tunnels.make(8, 6);
         v.solid(2, 3, 1);
         v.put(3, 2, 1);
         v.drain(3, 2, 2, 0, 1, 1);
@@ -1565,8 +1438,8 @@ public final class PromiseTest {
     }
 
     private static void bestStartBeyondTheGreatest() {
-        LatticeTunnel x = make(8, 6);
-        run(x, 10000);
+        LatticeTunnel x = Tunnels.make(8, 6);
+        Tunnels.run(x, 10000);
         x.solid(2, 3, 1);
         x.put(3, 2, 1);
         x.drain(3, 2, 2, 10000, 60, 60);
@@ -1580,7 +1453,7 @@ public final class PromiseTest {
         LatticeTunnel x = new LatticeTunnel();
         String[] pictures = new String[7];
         for (int i = 0; i < 7; i++) {
-            pictures[i] = picture(x);
+            pictures[i] = Tunnels.picture(x);
             x.put(i, 1, 0);
             x.save(0);
             Check.due("40 history", x.count(7), Math.min(4, i + 1));
@@ -1588,11 +1461,11 @@ public final class PromiseTest {
         x.type('0');
         for (int i = 3; i >= 0; i--) {
             Check.due("40 undo", x.undo(), i);
-            Check.same("40 state", picture(x), pictures[3 + i]);
+            Check.same("40 state", Tunnels.picture(x), pictures[3 + i]);
         }
         Check.noState("40 empty", () -> x.undo());
         Check.due("40 pad stays", x.count(8), 1);
-        unchanged("40 undo", x, () -> x.undo());
+        Tunnels.unchanged("40 undo", x, () -> x.undo());
         x.restore(0);
         Check.due("40 slots stay", x.cell(6, 1), 1);
         Check.due("40 undo", x.undo(), 0);
@@ -1604,54 +1477,54 @@ public final class PromiseTest {
         Check.due("40 history", x.count(7), 2);
         x.undo();
         Check.due("40 the first one stays", x.cell(0, 0), 2);
-        LatticeTunnel y = busy();
-        isChange("40 build and all that it drops", y, () -> y.build(32, 16));
+        LatticeTunnel y = Tunnels.busy();
+        Tunnels.isChange("40 build and all that it drops", y, () -> y.build(32, 16));
     }
 
     private static void promise41() {
-        LatticeTunnel x = busy();
-        String first = picture(x);
+        LatticeTunnel x = Tunnels.busy();
+        String first = Tunnels.picture(x);
         Check.due("41 save", x.save(0), 7);
         x.run(3);
-        String second = picture(x);
+        String second = Tunnels.picture(x);
         Check.due("41 save", x.save(1), 10);
         x.build(4, 2);
         x.restore(0);
-        Check.same("41 slot 0", picture(x), first);
+        Check.same("41 slot 0", Tunnels.picture(x), first);
         x.restore(1);
-        Check.same("41 slot 1", picture(x), second);
+        Check.same("41 slot 1", Tunnels.picture(x), second);
         x.save(0);
         x.build(4, 2);
         x.restore(0);
-        Check.same("41 in place of what was there", picture(x), second);
-        isNoChange("41 save", x, () -> x.save(1));
+        Check.same("41 in place of what was there", Tunnels.picture(x), second);
+        Tunnels.isNoChange("41 save", x, () -> x.save(1));
         Check.noIndex("41 slot", () -> x.save(2));
         Check.noIndex("41 slot", () -> x.save(-1));
     }
 
     private static void promise42() {
-        LatticeTunnel x = busy();
-        String first = picture(x);
+        LatticeTunnel x = Tunnels.busy();
+        String first = Tunnels.picture(x);
         x.save(1);
         x.build(32, 16);
         x.set(1, 0);
-        type(x, "03>14");
+        Tunnels.type(x, "03>14");
         x.rules();
-        type(x, "0");
+        Tunnels.type(x, "0");
         Check.due("42 restore", x.restore(1), 7);
-        Check.same("42 state", picture(x), first);
+        Check.same("42 state", Tunnels.picture(x), first);
         Check.due("42 pad stays", x.count(8), 1);
         x.run(9);
         x.put(8, 0, 0);
         Check.due("42 the slot keeps it", x.restore(1), 7);
-        Check.same("42 state", picture(x), first);
+        Check.same("42 state", Tunnels.picture(x), first);
         x.run(2);
-        isChange("42 restore", x, () -> x.restore(1));
+        Tunnels.isChange("42 restore", x, () -> x.restore(1));
         Check.noState("42 nothing saved", () -> x.restore(0));
-        unchanged("42 restore", x, () -> x.restore(0));
+        Tunnels.unchanged("42 restore", x, () -> x.restore(0));
         Check.noIndex("42 slot", () -> x.restore(2));
         Check.noIndex("42 slot", () -> x.restore(-1));
-        LatticeTunnel z = rattle();
+        LatticeTunnel z = Tunnels.rattle();
         z.run(4);
         z.save(0);
         z.build(8, 2);
