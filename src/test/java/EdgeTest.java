@@ -9,6 +9,8 @@ public final class EdgeTest {
     public static void main(String[] args) throws IOException {
         EdgesOfCells.all();
         EdgesOfRules.all();
+        EdgesOfTicks.all();
+        EdgesOfForecasts.all();
         Check.tellQuotes();
         if (args.length > 0 && args[0].equals("left")) {
             for (String each : Check.notQuoted()) {

@@ -1,8 +1,5 @@
-/** The edges that the document names under "Conventions" and "The lattice", and of the promises 1 to 10 and 23 to 25. */
+/** The edges that the document names under "Conventions" and "The lattice", and of promises 1 to 10 and 23 to 25. */
 final class EdgesOfCells {
-    private static final int[] ALONG = {2, 1, -1, -2, -1, 1};
-    private static final int[] ACROSS = {0, 1, 1, 0, -1, -1};
-
     private EdgesOfCells() {
     }
 
@@ -11,6 +8,7 @@ final class EdgesOfCells {
         rectangles();
         sizes();
         neighbours();
+        leftAndTop();
         opposites();
         sixBodies();
         oneForEachDirection();
@@ -53,7 +51,8 @@ final class EdgesOfCells {
 
     private static void rectangles() {
         Check.says("A rectangle is told by its first column and row and its last column and row, which belong to it.");
-        int[][] all = {{0, 0, 5, 3}, {1, 1, 4, 2}, {0, 0, 0, 0}, {5, 3, 5, 3}, {2, 0, 2, 3}, {0, 3, 5, 3}, {5, 0, 5, 0}};
+        int[][] all = {{0, 0, 5, 3}, {1, 1, 4, 2}, {0, 0, 0, 0}, {5, 3, 5, 3}, {2, 0, 2, 3}, {0, 3, 5, 3},
+            {5, 0, 5, 0}};
         for (int[] a : all) {
             int cells = (a[2] - a[0] + 1) * (a[3] - a[1] + 1);
             LatticeTunnel filled = Tunnels.make(6, 4);
@@ -134,6 +133,10 @@ final class EdgesOfCells {
                 + "the column before; in an odd one the next column and its own column;");
         Check.says("4 south-west and 5 south-east, in the next row: in an even row of the cell the column before and "
                 + "its own column; in an odd one its own column and the next column.");
+        Check.says("A particle goes to the neighbour in its direction, and keeps its direction.");
+        Check.says("If that would be above the first or below the last row, it stays in its cell: at a rough wall its "
+                + "direction becomes the opposite one; at a smooth one 1 becomes 5, 2 becomes 4, 4 becomes 2, and 5 "
+                + "becomes 1. The wall takes the momentum that the particle had, less that which it has now.");
         int[] widths = {4, 5, 16, 31, 32};
         int[] heights = {2, 3, 4, 15, 16};
         LatticeTunnel x = new LatticeTunnel();
@@ -175,20 +178,20 @@ final class EdgesOfCells {
         int row = a[4];
         int d = a[5];
         String what = width + " by " + a[1] + " kind " + a[2] + ": " + column + ", " + row + " direction " + d;
-        int toRow = row - ACROSS[d];
-        int toColumn = (place(column, row) + ALONG[d] - Math.floorMod(toRow, 2)) >> 1;
+        int toRow = row - Tunnels.ACROSS[d];
+        int toColumn = (place(column, row) + Tunnels.ALONG[d] - Math.floorMod(toRow, 2)) >> 1;
         if (toRow < 0 || toRow >= a[1]) {
             int[] smooth = {-1, 5, 4, -1, 2, 1};
             int becomes = a[2] >> 1 == 1 ? smooth[d] : (d + 3) % 6;
             Check.due(what + " at a wall", x.cell(column, row), 1 << becomes);
-            Check.due(what + " along to a wall", x.momentum(0, 3), ALONG[d] - ALONG[becomes]);
-            Check.due(what + " across to a wall", x.momentum(1, 3), ACROSS[d] - ACROSS[becomes]);
+            Check.due(what + " along to a wall", x.momentum(0, 3), Tunnels.ALONG[d] - Tunnels.ALONG[becomes]);
+            Check.due(what + " across to a wall", x.momentum(1, 3), Tunnels.ACROSS[d] - Tunnels.ACROSS[becomes]);
             crossings(what, x, -1, 0);
         } else if ((a[2] & 1) == 0 && (toColumn < 0 || toColumn >= width)) {
             Check.due(what + " is out", x.particles(4), 0);
             Check.due(what + " left", x.particles(3), 1);
-            Check.due(what + " along at the ends", x.momentum(0, 4), ALONG[d]);
-            Check.due(what + " across at the ends", x.momentum(1, 4), ACROSS[d]);
+            Check.due(what + " along at the ends", x.momentum(0, 4), Tunnels.ALONG[d]);
+            Check.due(what + " across at the ends", x.momentum(1, 4), Tunnels.ACROSS[d]);
             crossings(what, x, toColumn < 0 ? -1 : width - 1, 1);
         } else {
             Check.due(what + " goes there", x.cell(Math.floorMod(toColumn, width), toRow), 1 << d);
@@ -202,6 +205,19 @@ final class EdgesOfCells {
         for (int c = 0; c < x.count(0); c++) {
             Check.due(what + " crosses " + c, x.crossed(c), c == column ? due : 0);
         }
+    }
+
+    private static void leftAndTop() {
+        Check.says("Column 0 is at the left end, row 0 at the top.");
+        LatticeTunnel x = Tunnels.make(6, 4);
+        x.put(0, 2, 3);
+        x.put(5, 2, 0);
+        x.put(2, 0, 1);
+        x.put(2, 3, 4);
+        x.run(1);
+        Check.due("left at the ends", x.particles(3), 2);
+        Check.due("back from the wall above", x.cell(2, 0), 16);
+        Check.due("back from the wall below", x.cell(2, 3), 2);
     }
 
     private static void opposites() {
@@ -290,8 +306,8 @@ final class EdgesOfCells {
             int along = 0;
             int across = 0;
             for (int d = 0; d < 6; d++) {
-                along += (state >> d & 1) * ALONG[d];
-                across += (state >> d & 1) * ACROSS[d];
+                along += (state >> d & 1) * Tunnels.ALONG[d];
+                across += (state >> d & 1) * Tunnels.ACROSS[d];
             }
             Check.due("wind along " + state, x.wind(0, 3, 1, 3, 1), along);
             Check.due("wind across " + state, x.wind(1, 3, 1, 3, 1), across);

@@ -3,9 +3,6 @@ import java.util.List;
 
 /** The edges that the document names under "Rules of collision", and of the promises 15 to 19. */
 final class EdgesOfRules {
-    private static final int[] ALONG = {2, 1, -1, -2, -1, 1};
-    private static final int[] ACROSS = {0, 1, 1, 0, -1, -1};
-
     private EdgesOfRules() {
     }
 
@@ -56,8 +53,8 @@ final class EdgesOfRules {
         int across = 0;
         for (int d = 0; d < 6; d++) {
             int more = (one >> d & 1) - (other >> d & 1);
-            along += more * ALONG[d];
-            across += more * ACROSS[d];
+            along += more * Tunnels.ALONG[d];
+            across += more * Tunnels.ACROSS[d];
         }
         return Integer.bitCount(one) == Integer.bitCount(other) && along == 0 && across == 0;
     }
@@ -131,9 +128,8 @@ final class EdgesOfRules {
                 x.fill(state, 3, 2, 3, 2);
             }
             x.run(1);
-            int[][] around = {{4, 2}, {3, 1}, {2, 1}, {2, 2}, {2, 3}, {3, 3}};
             for (int d = 0; d < 6; d++) {
-                Check.due(state + " to " + d, x.cell(around[d][0], around[d][1]), state & 1 << d);
+                Check.due(state + " to " + d, x.cell(Tunnels.AROUND[d][0], Tunnels.AROUND[d][1]), state & 1 << d);
             }
         }
     }
@@ -166,8 +162,9 @@ final class EdgesOfRules {
         String[][] all = {
             {"", "*012345"}, {"*", "012345"}, {"0", "12345>"}, {"2", "345>"}, {"5", ">"}, {"05", ">"}, {"*4", "5>"},
             {"012345", ">"}, {"2>", "012345"}, {"*2>", "012345"}, {"02>0", "12345|;"}, {"02>01", "2345|;"},
-            {"5>5", "|;"}, {"012345>012345", "|;"}, {"02>02|", "012345"}, {"02>02|0", "12345;"}, {"02>02|02", "345;"},
-            {"5>5|5", ";"}, {"5>5|012345", ";"}, {"5>5;", "*012345"}, {"5>5|5;", "*012345"}, {"*5>5;*03>14;", "*012345"},
+            {"5>5", "|;"}, {"012345>012345", "|;"}, {"02>02|", "012345"}, {"02>02|0", "12345;"},
+            {"02>02|02", "345;"}, {"5>5|5", ";"}, {"5>5|012345", ";"}, {"5>5;", "*012345"}, {"5>5|5;", "*012345"},
+            {"*5>5;*03>14;", "*012345"},
             {"5>5;*", "012345"}, {"5>5;0", "12345>"}, {"5>5;0>", "012345"},
         };
         for (String[] each : all) {

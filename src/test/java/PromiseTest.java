@@ -733,12 +733,11 @@ public final class PromiseTest {
     }
 
     private static void bodies() {
-        int[][] around = {{4, 2}, {3, 1}, {2, 1}, {2, 2}, {2, 3}, {3, 3}};
         int[] along = {4, 2, -2, -4, -2, 2};
         int[] across = {0, 2, 2, 0, -2, -2};
         for (int d = 0; d < 6; d++) {
             LatticeTunnel x = Tunnels.make(8, 6);
-            x.solid(d, around[d][0], around[d][1]);
+            x.solid(d, Tunnels.AROUND[d][0], Tunnels.AROUND[d][1]);
             x.put(3, 2, d);
             x.run(1);
             Check.due("20 bounced", x.cell(3, 2), 1 << (d + 3) % 6);

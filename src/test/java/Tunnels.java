@@ -1,5 +1,11 @@
 /** Tunnels that several tests begin with, and ways to look at a whole one. */
 final class Tunnels {
+    /** The momentum of a particle, by its direction. */
+    static final int[] ALONG = {2, 1, -1, -2, -1, 1};
+    static final int[] ACROSS = {0, 1, 1, 0, -1, -1};
+    /** Columns and rows of the neighbours of column 3, row 2, by their directions. */
+    static final int[][] AROUND = {{4, 2}, {3, 1}, {2, 1}, {2, 2}, {2, 3}, {3, 3}};
+
     private Tunnels() {
     }
 
