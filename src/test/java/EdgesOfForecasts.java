@@ -10,6 +10,7 @@ final class EdgesOfForecasts {
         nothingChanges();
         ahead();
         cycleWithin();
+        cycleOfEachCell();
         cycleWithGusts();
         cycleNotBegun();
         cycleIsEven();
@@ -134,6 +135,29 @@ final class EdgesOfForecasts {
         cycleIs("there and back from 3", longer, 60, -1, -1);
     }
 
+    private static void cycleOfEachCell() {
+        Check.says("each cell has the particles that it has after k ticks");
+        // One particle goes round, with each direction in which it keeps its row, in the narrowest and widest ring.
+        for (int height = 2; height <= 16; height += 7) {
+            for (int row = 0; row < height; row++) {
+                for (int d = 0; d <= 3; d += 3) {
+                    LatticeTunnel narrow = Tunnels.ring(4, height);
+                    narrow.put(3, row, d);
+                    cycleNeeds("direction " + d + " in row " + row + " of " + height, narrow, 4, 0, 4);
+                    LatticeTunnel wide = Tunnels.ring(32, height);
+                    wide.put(31, row, d);
+                    cycleNeeds("direction " + d + " in row " + row + " of " + height, wide, 32, 0, 32);
+                }
+            }
+        }
+        // The other directions: through all rows, off a rough wall, and the same way back.
+        for (int d : new int[] {1, 2, 4, 5}) {
+            LatticeTunnel rough = Tunnels.ring(32, 16);
+            rough.put(31, 15, d);
+            cycleNeeds("direction " + d + " between rough walls", rough, 32, 0, 32);
+        }
+    }
+
     private static void cycleIsEven() {
         Check.says("p is even");
         for (int width = 4; width <= 32; width++) {
@@ -221,6 +245,9 @@ final class EdgesOfForecasts {
         two.drain(3, 0, 0, 7, 1, 1);
         two.drain(3, 0, 0, 3, 1, 1);
         cycleNeeds("the later one of two", two, 9, 7, 2);
+        two.drop(0);
+        two.drain(3, 0, 0, 7, 1, 1);
+        cycleNeeds("the later one of two is the second", two, 9, 7, 2);
         two.drain(3, 0, 0, 10000, 60, 1);
         cycleIs("one that begins far later", two, 60, -1, -1);
     }

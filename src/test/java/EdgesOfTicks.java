@@ -42,6 +42,8 @@ final class EdgesOfTicks {
         sixGusts();
         gustNumbers();
         blowing();
+        blowingBesideOthers();
+        besideOtherParticles();
         latestStart();
         inlets();
         fans();
@@ -137,6 +139,48 @@ final class EdgesOfTicks {
             effect += due ? 1 : 0;
             Check.due("effect of " + what + time, x.gust(0, 7), effect);
         }
+    }
+
+    private static void blowingBesideOthers() {
+        LatticeTunnel x = Tunnels.make(8, 4);
+        int[][] times = {{3, 7, 7}, {0, 5, 1}, {4, 9, 3}, {1, 2, 1}, {20, 60, 59}, {2, 6, 5}};
+        for (int g = 0; g < 6; g++) {
+            x.drain(g, 0, 3, times[g][0], times[g][1], times[g][2]);
+        }
+        for (int time = 0; time < 130; time++) {
+            x.fill(2, 0, 1, 5, 1);
+            int[] before = new int[6];
+            for (int g = 0; g < 6; g++) {
+                boolean due = blows(time, times[g][0], times[g][1], times[g][2]);
+                Check.due("gust " + g + " at " + time, x.gust(g, 8), due ? 1 : 0);
+                before[g] = x.gust(g, 7) + (due ? x.density(g, 0, g, 3) : 0);
+            }
+            x.run(1);
+            for (int g = 0; g < 6; g++) {
+                Check.due("effect of gust " + g + " at " + time, x.gust(g, 7), before[g]);
+            }
+        }
+    }
+
+    private static void besideOtherParticles() {
+        Check.says("one to the west and none to the east.");
+        // What is in other columns of the row is no matter.
+        LatticeTunnel x = Tunnels.withBook(8, 4, "");
+        x.fill(9, 0, 1, 7, 2);
+        x.empty(3, 1, 3, 2);
+        x.fill(8, 3, 1, 3, 2);
+        x.fan(3, 0, 3, 0, 1, 1);
+        x.inlet(0, 3, 0, 1, 1);
+        x.run(1);
+        for (int row = 1; row <= 2; row++) {
+            for (int c = 0; c < 8; c++) {
+                // All have gone on to the east and to the west, but for the one that came from column 3.
+                int due = (c > 0 ? 1 : 0) + (c < 7 && c != 2 ? 8 : 0);
+                Check.due("column " + c + " in row " + row, x.cell(c, row), due);
+            }
+        }
+        Check.due("turned", x.gust(0, 7), 2);
+        Check.due("blown into the rows without any", x.gust(1, 7), 2);
     }
 
     private static void latestStart() {
@@ -363,6 +407,7 @@ final class EdgesOfTicks {
 
     private static void ticks() {
         atOnce();
+        manyAtWalls();
         endsBeforeSolids();
         allBodiesAtOnce();
         record();
@@ -400,6 +445,31 @@ final class EdgesOfTicks {
             Check.due("as many there as back", full.crossed(c), 0);
         }
         Check.due("walls above and below", full.momentum(1, 3), 0);
+    }
+
+    private static void manyAtWalls() {
+        Check.says("The wall takes the momentum that the particle had, less that which it has now.");
+        for (int number = 1; number <= 32; number++) {
+            for (int smooth = 0; smooth <= 1; smooth++) {
+                LatticeTunnel x = Tunnels.make(32, 16);
+                x.set(1, smooth);
+                x.set(2, smooth);
+                x.fill(2, 0, 0, number - 1, 0);
+                x.run(1);
+                Check.due(number + " above, along", x.momentum(0, 3), smooth == 1 ? 0 : 2 * number);
+                Check.due(number + " above, across", x.momentum(1, 3), 2 * number);
+                Check.due(number + " above, there", x.momentum(1, 5), -number);
+                x.build(32, 16);
+                x.fill(16, 32 - number, 15, 31, 15);
+                Check.due(number + " below, there before", x.momentum(0, 5), -number);
+                x.run(1);
+                Check.due(number + " below, along", x.momentum(0, 3), smooth == 1 ? 0 : -2 * number);
+                Check.due(number + " below, across", x.momentum(1, 3), -2 * number);
+                Check.due(number + " below, there", x.momentum(1, 5), number);
+                Check.due(number + " below, there", x.momentum(0, 5), smooth == 1 ? -number : number);
+                Check.due("none left", x.particles(4), number);
+            }
+        }
     }
 
     private static void endsBeforeSolids() {
