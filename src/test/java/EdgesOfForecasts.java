@@ -15,8 +15,10 @@ final class EdgesOfForecasts {
         cycleNotBegun();
         cycleIsEven();
         cycleIsLeast();
+        noCycle();
         settles();
         settlesLimit();
+        neverSettles();
         shiftsWithinThree();
         shiftsAllowed();
         shiftsAlike();
@@ -252,6 +254,18 @@ final class EdgesOfForecasts {
         cycleIs("one that begins far later", two, 60, -1, -1);
     }
 
+    private static void noCycle() {
+        Check.says("NONE if there is no such cycle.");
+        // Round a ring of 31 columns: the same after 31 ticks, and after an even number of them not before 62.
+        LatticeTunnel x = Tunnels.ring(31, 2);
+        x.put(0, 0, 0);
+        for (int ticks = 2; ticks <= 60; ticks++) {
+            cycleIs("62 ticks round", x, ticks, LatticeTunnel.NONE, LatticeTunnel.NONE);
+        }
+        x.drain(0, 0, 0, 0, 1, 1);
+        cycleNeeds("drained at once", x, 3, 1, 2);
+    }
+
     private static void settles() {
         Check.says("Finds the least number of ticks, from 0 on, after which steady() would be true, if nothing is "
                 + "changed.");
@@ -309,6 +323,17 @@ final class EdgesOfForecasts {
         for (int ticks = 1; ticks <= 20; ticks++) {
             Check.due("the hit is out of " + ticks, z.settles(2, ticks, 3, 40), 2 * ticks);
             Check.due("or within the tolerance", z.settles(2, ticks, 4, 40), 2 * ticks - 1);
+        }
+    }
+
+    private static void neverSettles() {
+        Check.says("NONE if there is none.");
+        LatticeTunnel x = Tunnels.rattle();
+        Tunnels.run(x, 64);
+        for (int limit = 0; limit <= 40; limit++) {
+            Check.due("odd numbers of ticks to " + limit, x.settles(1, 31, 3, limit), LatticeTunnel.NONE);
+            Check.due("with the tolerance to " + limit, x.settles(1, 31, 4, limit), 0);
+            Check.due("even numbers of ticks to " + limit, x.settles(1, 32, 0, limit), 0);
         }
     }
 

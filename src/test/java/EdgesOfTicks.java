@@ -142,6 +142,7 @@ final class EdgesOfTicks {
     }
 
     private static void blowingBesideOthers() {
+        Check.says("8: whether it blows in the next tick (1 or 0)");
         LatticeTunnel x = Tunnels.make(8, 4);
         int[][] times = {{3, 7, 7}, {0, 5, 1}, {4, 9, 3}, {1, 2, 1}, {20, 60, 59}, {2, 6, 5}};
         for (int g = 0; g < 6; g++) {
