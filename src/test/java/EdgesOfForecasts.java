@@ -158,6 +158,34 @@ final class EdgesOfForecasts {
             rough.put(31, 15, d);
             cycleNeeds("direction " + d + " between rough walls", rough, 32, 0, 32);
         }
+        inAnotherCell();
+    }
+
+    /**
+     * Between a rough wall above and a smooth one below a particle goes through four directions before it comes back.
+     * At half of that time it is in the next column to the left, round the ring, with another direction: of the
+     * columns 0 and 31 that may be mistaken most easily.
+     */
+    private static void inAnotherCell() {
+        for (int height = 2; height <= 16; height++) {
+            for (int row = 0; row < height; row++) {
+                LatticeTunnel x = Tunnels.ring(32, height);
+                x.set(2, 1);
+                x.put(0, row, 4);
+                if (height < 16) {
+                    cycleNeeds("row " + row + " of " + height, x, 4 * height, 0, 4 * height);
+                } else {
+                    cycleIs("row " + row + " of 16", x, 60, -1, -1);
+                }
+            }
+        }
+        LatticeTunnel half = Tunnels.ring(32, 2);
+        half.set(2, 1);
+        half.put(0, 0, 4);
+        half.run(4);
+        Check.due("half of the time", half.cell(31, 0), 32);
+        Check.due("alone", half.particles(4), 1);
+        cycleNeeds("from there", half, 8, 0, 8);
     }
 
     private static void cycleIsEven() {

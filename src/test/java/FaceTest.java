@@ -202,9 +202,9 @@ public final class FaceTest {
         LatticeTunnel x = new LatticeTunnel();
         work(x);
         x = new LatticeTunnel();
-        long before = bean.getThreadAllocatedBytes(Thread.currentThread().getId());
+        long before = bean.getCurrentThreadAllocatedBytes();
         work(x);
-        long made = bean.getThreadAllocatedBytes(Thread.currentThread().getId()) - before;
+        long made = bean.getCurrentThreadAllocatedBytes() - before;
         // The test's own arrays of characters are some 40 bytes in each of 20 rounds.
         Check.holds("calls make nothing new: " + made + " bytes", made < 8000);
     }
