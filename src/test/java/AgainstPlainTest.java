@@ -31,6 +31,7 @@ public final class AgainstPlainTest {
             }
             look("run " + run + " at the end ");
         }
+        wholeLife();
         faults();
         Check.end("AgainstPlainTest");
     }
@@ -316,6 +317,34 @@ public final class AgainstPlainTest {
                 x.particles(2) + x.particles(3) + x.particles(4));
         Check.due(call + "momentum in and out", x.momentum(axis, 0) + x.momentum(axis, 1),
                 x.momentum(axis, 2) + x.momentum(axis, 3) + x.momentum(axis, 4) + x.momentum(axis, 5));
+    }
+
+    /** As many ticks as an object can come to in its 512 calls; some gusts begin after half of them. */
+    private static void wholeLife() {
+        chance = new Random(512);
+        x = new LatticeTunnel();
+        p = new PlainTunnel();
+        both("life build", () -> x.build(9, 6), () -> p.build(9, 6));
+        both("life smooth", () -> x.set(1, 1), () -> p.set(1, 1));
+        both("life block", () -> x.block(2, 4, 2, 5, 3), () -> p.block(2, 4, 2, 5, 3));
+        both("life fill", () -> x.fill(45, 0, 0, 3, 5), () -> p.fill(45, 0, 0, 3, 5));
+        both("life inlet", () -> x.inlet(0, 5, 0, 7, 4), () -> p.inlet(0, 5, 0, 7, 4));
+        both("life fan", () -> x.fan(6, 0, 5, 10000, 5, 2), () -> p.fan(6, 0, 5, 10000, 5, 2));
+        both("life drain", () -> x.drain(8, 1, 4, 9999, 60, 59), () -> p.drain(8, 1, 4, 9999, 60, 59));
+        for (int call = 8; call <= 512; call++) {
+            both("life call " + call, () -> x.run(40), () -> p.run(40));
+        }
+        look("life at the end ");
+        both("life settles", () -> x.settles(2, 5, 9, 40), () -> p.settles(2, 5, 9, 40));
+        both("life cycle", () -> x.cycle(60, 1), () -> p.cycle(60, 1));
+        for (int gust = 0; gust < 3; gust++) {
+            int g = gust;
+            both("life bestStart", () -> x.bestStart(g, 2, 40), () -> p.bestStart(g, 2, 40));
+        }
+        for (int i = 0; i < 5; i++) {
+            both("life undo", () -> x.undo(), () -> p.undo());
+        }
+        look("life after undo ");
     }
 
     /** Many short texts of the signs that matter. */
